@@ -186,7 +186,7 @@ public final class ShoeHouse {
         }
         needStake(player, chips);
         needNoRound();
-        player.noteBet(chips, shoe.unseen() > 0 && shoe.countByDeck() >= HIGH_COUNT);
+        player.noteBet(chips, shoe.countByDeck() >= HIGH_COUNT);
         player.putStake(chips);
         place.take(player, chips);
         return player.chips;
@@ -1036,6 +1036,7 @@ public final class ShoeHouse {
             return sum;
         }
 
+        /** The true count, 0 if there is no card that was not seen. */
         int countByDeck() {
             int unseen = unseen();
             return unseen == 0 ? 0 : countSeen() * 52 / unseen;
@@ -1119,12 +1120,6 @@ public final class ShoeHouse {
             isPlaying = false;
             return back;
         }
-
-        void forgetStake() {
-            stake = 0;
-            isPlaying = false;
-            isSettled = false;
-        }
     }
 
     /** A place at the cards, with one hand or, split, two. */
@@ -1179,8 +1174,8 @@ public final class ShoeHouse {
         }
 
         void forgetStakes() {
-            first.forgetStake();
-            second.forgetStake();
+            first.isSettled = false;
+            second.isSettled = false;
             guest = null;
         }
 
@@ -1658,23 +1653,16 @@ public final class ShoeHouse {
             if (player != null) {
                 player.chips += paid;
             }
-            forgetSpin();
+            player = null;
             return paid;
         }
 
         int takeAway(Guest guest) {
             int back = stakeOf(guest);
             if (player == guest) {
-                forgetSpin();
+                player = null;
             }
             return back;
-        }
-
-        private void forgetSpin() {
-            player = null;
-            stake = 0;
-            isTilted = false;
-            hasPot = false;
         }
 
         /** What all stops pay together, each once, for a stake of one chip. */

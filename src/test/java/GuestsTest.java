@@ -11,9 +11,11 @@ public final class GuestsTest {
         reporting();
         cashingOut();
         limits();
+        limitsOfLaterDays();
         limitsThatWait();
         barDays();
         barBringsStakesBack();
+        barLeavesTheFirstWager();
         barTakesSpins();
         barTakesTicketsAndPrizes();
         barredMayNotStake();
@@ -92,6 +94,8 @@ public final class GuestsTest {
         Expect.same("vault", house.vault(), 10);
         Expect.unsupported(house, "buyIn of more than the vault has", () -> house.buyIn(1, 11));
         Expect.unsupported(house, "fill of more than the vault has", () -> house.fill(0, 11));
+        Expect.same("fill of all that the vault has", house.fill(0, 10), 10);
+        Expect.same("and back", house.credit(0, 10), 0);
         Expect.same("buyIn of the last", house.buyIn(1, 10), 10);
         Expect.same("vault", house.vault(), 0);
         Expect.unsupported(house, "fill from an empty vault", () -> house.fill(2, 1));
@@ -160,6 +164,17 @@ public final class GuestsTest {
         Expect.same("lower than what is staked", house.limit(0, 0), 0);
         Expect.same("staked", house.staked(0), 50);
         Expect.unsupported(house, "ticket", () -> house.ticket(0, 123));
+    }
+
+    private static void limitsOfLaterDays() {
+        ShoeHouse house = Scene.withGuests(1, 9000);
+        house.pass(1);
+        for (int i = 0; i < 10; i++) {
+            house.wager(0, 'n', 1, 500);
+        }
+        Expect.same("5000 in a day", house.staked(0), 5000);
+        house.spin(2);
+        Expect.unsupported(house, "no more on a later day", () -> house.wager(0, 'r', 0, 1));
     }
 
     private static void limitsThatWait() {
@@ -234,6 +249,20 @@ public final class GuestsTest {
         Expect.same("those of the other, in their order", house.spin(9), 6 * 36 + 2);
         Expect.same("tray", house.tray(1), 7);
         Expect.same("vault", house.vault(), 98000 - 6 * 35);
+        Expect.same("sound", house.isSound(), true);
+        house.wager(1, 'n', 9, 3);
+        Expect.same("the first wager is no other's", house.bar(1, 5), 25);
+        Expect.same("nothing is left", house.spin(9), 0);
+    }
+
+    private static void barLeavesTheFirstWager() {
+        ShoeHouse house = Scene.withGuests(2, 1000);
+        house.wager(1, 'n', 9, 6);
+        house.wager(0, 'n', 9, 5);
+        house.wager(1, 'n', 8, 4);
+        Expect.same("comes back", house.bar(0, 5), 5);
+        Expect.same("the first wager stays", house.spin(9), 6 * 36);
+        Expect.same("the last one too", house.tray(1), 4);
         Expect.same("sound", house.isSound(), true);
     }
 

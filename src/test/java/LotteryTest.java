@@ -17,6 +17,9 @@ public final class LotteryTest {
         claimsOfManyDays();
         smallPrizes();
         rollovers();
+        tenths();
+        ticketsOfEarlierDraws();
+        allNumbers();
         Expect.end(LotteryTest.class);
     }
 
@@ -238,5 +241,56 @@ public final class LotteryTest {
         house.draw(123);
         Expect.same("6 tenths of 14", house.confirm(), 8);
         Expect.same("the rest stays", house.pool(), 6);
+    }
+
+    private static void tenths() {
+        ShoeHouse house = Scene.withGuests(2, 100);
+        for (int i = 0; i < 4; i++) {
+            house.ticket(0, 567);
+        }
+        house.ticket(1, 125);
+        house.draw(123);
+        Expect.same("2 tenths of 10", house.confirm(), 2);
+        house.ticket(1, 123);
+        house.draw(123);
+        Expect.same("6 tenths of 10", house.confirm(), 6);
+    }
+
+    private static void ticketsOfEarlierDraws() {
+        ShoeHouse house = Scene.withGuests(2, 100);
+        for (int i = 0; i < 5; i++) {
+            house.ticket(0, 123);
+        }
+        house.draw(789);
+        house.confirm();
+        house.ticket(1, 123);
+        Expect.same("one ticket", house.draw(123), 1);
+        Expect.same("6 tenths of 12", house.confirm(), 7);
+        Expect.none(house, "those of the draw before win nothing", () -> house.claim(0));
+        Expect.same("claim", house.claim(1), 7);
+        Expect.same("sound", house.isSound(), true);
+    }
+
+    private static void allNumbers() {
+        for (int hundreds = 0; hundreds < 10; hundreds++) {
+            ShoeHouse house = Scene.withGuests(1, 100);
+            for (int i = 0; i < 100; i++) {
+                int numbers = 100 * hundreds + i;
+                int tens = i / 10;
+                int ones = i % 10;
+                if (hundreds == tens || tens == ones || hundreds == ones) {
+                    Expect.argument(house, "draw " + numbers, () -> house.draw(numbers));
+                } else {
+                    Expect.same("draw " + numbers, house.draw(numbers), 0);
+                }
+            }
+            house.confirm();
+            int tens = (hundreds + 3) % 10;
+            int ones = (hundreds + 7) % 10;
+            house.ticket(0, 100 * hundreds + 10 * tens + ones);
+            Expect.same("turned", house.draw(100 * ones + 10 * hundreds + tens), 1);
+            Expect.same("turned", house.draw(100 * tens + 10 * ones + hundreds), 1);
+            Expect.same("another one", house.draw(100 * tens + 10 * ones + (hundreds + 1) % 10), 0);
+        }
     }
 }

@@ -39,6 +39,7 @@ public final class RoundTest {
         doublingRefused();
         splitting();
         splittingByTheRule();
+        splittingAgain();
         splittingAces();
         splittingRefused();
         surrendering();
@@ -49,6 +50,10 @@ public final class RoundTest {
         barOfNaturals();
         emptyShoe();
         emptyShoeAndTwoCards();
+        lastCards();
+        dealerTakesTheLastCard();
+        cardsToDeal();
+        dealerAtTwentyTwo();
         layForgets();
         Expect.end(RoundTest.class);
     }
@@ -345,7 +350,8 @@ public final class RoundTest {
         ShoeHouse soft = dealt(20, ACES);
         Expect.same("soft 12 and 10", soft.hit(0), 12);
         Expect.same("22", soft.hit(0), 22);
-        Expect.same("lost", soft.chips(0), 980);
+        Expect.same("lost", soft.tray(0), 20);
+        isOver(soft);
     }
 
     private static void busting() {
@@ -536,6 +542,25 @@ public final class RoundTest {
         isOver(house);
     }
 
+    /** Two rounds with splits from one shoe: the hands of the first are not those of the second. */
+    private static void splittingAgain() {
+        ShoeHouse house = Scene.withGuests(1, 1000);
+        house.lay(1);
+        house.cut(36);
+        for (int i = 0; i < 2; i++) {
+            house.bet(0, 0, 20);
+            house.deal();
+            Expect.same("two tens", house.split(0), 20);
+            handHas(house, 0, 0, "10 10 ");
+            handHas(house, 0, 1, "10 10 ");
+            standAll(house);
+        }
+        Expect.same("even", house.chips(0), 1000);
+        house.bet(0, 0, 20);
+        house.deal();
+        Expect.index(house, "not split this time", () -> house.cardAt(0, 1, 0));
+    }
+
     private static void splittingAces() {
         ShoeHouse house = dealt(11, ACES);
         Expect.same("ace and 10", house.split(0), 21);
@@ -702,6 +727,10 @@ public final class RoundTest {
 
     /** Two decks with rounds of so many seats, all standing; the low cards are the last ones. */
     private static ShoeHouse playedDown(int cut, String seats) {
+        return playedDown(cut, seats, "");
+    }
+
+    private static ShoeHouse playedDown(int cut, String seats, String recipe) {
         ShoeHouse house = Scene.withGuests(1, 5000);
         house.lay(2);
         house.cut(cut);
@@ -712,6 +741,7 @@ public final class RoundTest {
             house.deal();
             standAll(house);
         }
+        Scene.mix(house, recipe);
         for (int seat = 0; seat < 3; seat++) {
             house.bet(seat, 0, 2);
         }
@@ -740,6 +770,8 @@ public final class RoundTest {
         Expect.unsupported(house, "no card", () -> house.riffle(true));
         Expect.argument(house, "no card", () -> house.cut(1));
         Expect.unsupported(house, "no cards to deal, in a round", house::deal);
+        house.weigh(1, 1);
+        Expect.same("8 aces by the hidden card", house.trueCount(), 8 * 52);
         Expect.same("sound", house.isSound(), true);
         Expect.same("over", house.stand(2), -1);
         dealerHas(house, "2 3 ");
@@ -768,6 +800,82 @@ public final class RoundTest {
         Expect.unsupported(house, "no card to double", () -> house.twice(2));
         Expect.same("over", house.stand(2), -1);
         Expect.none(house, "the dealer has no third card", () -> house.dealerAt(2));
+        isOver(house);
+    }
+
+    private static void lastCards() {
+        ShoeHouse house = playedDown(39, "3333212331");
+        house.split(0);
+        hitAll(house, 0);
+        house.split(1);
+        hitAll(house, 1);
+        house.weigh(4, 1);
+        int seen = house.count();
+        Expect.same("8 of 4 but what is left", seen, 8 - house.left(4));
+        house.twice(2);
+        Expect.none(house, "a double takes the last one", () -> house.cardAt(2, 0, 3));
+        Expect.same("and the dealer none", cardsLeft(house), 0);
+        dealerHas(house, "2 3 ");
+        isOver(house);
+        ShoeHouse two = playedDown(30, "13131331133", "o");
+        two.split(0);
+        hitAll(two, 0);
+        hitAll(two, 1);
+        Expect.same("two cards and the hidden one", cardsLeft(two), 3);
+        two.split(2);
+        Expect.same("a split takes both", cardsLeft(two), isOn(two) ? 1 : 0);
+        standAll(two);
+        Expect.same("no card for the dealer", cardsLeft(two), 0);
+        Expect.none(two, "no third card", () -> two.dealerAt(2));
+        isOver(two);
+    }
+
+    private static void dealerTakesTheLastCard() {
+        ShoeHouse house = playedDown(30, "11233113323", "5");
+        for (int seat = 0; seat < 3; seat++) {
+            for (int i = 0; i < 40 && isOn(house) && house.turn() == seat; i++) {
+                house.hit(seat);
+            }
+        }
+        Expect.same("no card is left", cardsLeft(house), 0);
+        Expect.same("the dealer drew", house.dealerAt(2) > 0, true);
+        isOver(house);
+    }
+
+    private static void cardsToDeal() {
+        ShoeHouse house = Scene.withGuests(1, 1000);
+        house.lay(1);
+        house.cut(1);
+        for (char seats : "311".toCharArray()) {
+            for (int seat = 0; seat < seats - '0'; seat++) {
+                house.bet(seat, 0, 20);
+            }
+            house.deal();
+            standAll(house);
+        }
+        Expect.same("29 cards", cardsLeft(house), 29);
+        house.bet(0, 0, 20);
+        Expect.unsupported(house, "29 are too few", house::deal);
+    }
+
+    private static void dealerAtTwentyTwo() {
+        ShoeHouse house = Scene.withGuests(1, 1000);
+        house.lay(1);
+        house.cut(7);
+        house.bet(0, 0, 20);
+        house.bet(1, 0, 20);
+        house.deal();
+        standAll(house);
+        house.bet(0, 0, 20);
+        int before = house.chips(0);
+        house.deal();
+        Expect.same("over", house.stand(0), -1);
+        int sum = 0;
+        for (String card : dealer(house).trim().split(" ")) {
+            sum += Integer.parseInt(card);
+        }
+        Expect.same("22", sum, 22);
+        Expect.same("the dealer is above 21", house.chips(0), before + 40);
         isOver(house);
     }
 

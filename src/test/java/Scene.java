@@ -18,6 +18,10 @@ final class Scene {
     /** Lays a deck, then riffles ('o' out, 'i' in) and cuts (a number); FindShuffle tells such recipes. */
     static void lay(ShoeHouse house, int decks, String recipe) {
         house.lay(decks);
+        mix(house, recipe);
+    }
+
+    static void mix(ShoeHouse house, String recipe) {
         for (String step : recipe.split(" ")) {
             if (step.equals("o") || step.equals("i")) {
                 house.riffle(step.equals("o"));

@@ -20,6 +20,7 @@ public final class ShoeTest {
         suspicion();
         suspicionNeedsThree();
         suspicionByMeans();
+        suspicionBelowTwo();
         betsWithoutShoe();
         Expect.end(ShoeTest.class);
     }
@@ -274,6 +275,11 @@ public final class ShoeTest {
         house.weigh(9, -3);
         house.weigh(8, 3);
         Expect.same("0", house.trueCount(), 0);
+        house.weigh(9, 3);
+        Expect.same("12 by 48", house.trueCount(), 13);
+        house.weigh(9, -3);
+        house.weigh(8, -3);
+        Expect.same("-12 by 48", house.trueCount(), -13);
     }
 
     /** Brings the true count to just 2: 8 8 9 9 were seen of a deck. */
@@ -377,6 +383,34 @@ public final class ShoeTest {
             betAtSeat(wheel, 0, 2);
         }
         Expect.same("only bets at the cards", wheel.isSuspected(0), false);
+    }
+
+    /** Bets at a shoe of two decks of which 8 8 9 9 were seen, and brings it back to that. */
+    private static void betOfTwoDecks(ShoeHouse house, int chips) {
+        house.bet(2, 0, chips);
+        house.lay(2);
+        house.cut(62);
+        house.deal();
+        house.stand(2);
+    }
+
+    private static void suspicionBelowTwo() {
+        ShoeHouse house = Scene.withGuests(1, 4000);
+        betOfTwoDecks(house, 20);
+        for (int i = 0; i < 3; i++) {
+            house.weigh(8, 1);
+            Expect.same("2 by 100", house.trueCount(), 1);
+            betOfTwoDecks(house, 60);
+            house.weigh(8, 0);
+            betOfTwoDecks(house, 20);
+        }
+        Expect.same("1 is not high", house.isSuspected(0), false);
+        house.weigh(8, 2);
+        for (int i = 0; i < 3; i++) {
+            Expect.same("4 by 100", house.trueCount(), 2);
+            betOfTwoDecks(house, 200);
+        }
+        Expect.same("2 is high", house.isSuspected(0), true);
     }
 
     private static void betsWithoutShoe() {
