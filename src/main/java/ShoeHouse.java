@@ -731,7 +731,7 @@ public final class ShoeHouse {
         return result;
     }
 
-    // Red falls on 18 of 37 numbers: by the known sum for such a walk each chip is worth 19 by 18 of the one before.
+    // Red falls on 18 of 37 numbers, so the chance is (19^n - 18^n) * 18^(goal - n) by 19^goal - 18^goal.
     private static long ruinPart(int chips, int goal) {
         return (power(19, chips) - power(18, chips)) * power(18, goal - chips);
     }
@@ -1380,22 +1380,16 @@ public final class ShoeHouse {
         }
     }
 
-    /** The chance of the dealer's ends by what is left. */
+    /** The chances of the dealer's ends by what is left. */
     private static final class DealerOdds {
-        private static final int SLOTS = 2048;
-        private static final int MOST_CARDS = 22;
-        private static final long NOTHING_DRAWN = 1L << 60;
+        // The dealer draws below 18, and each card adds 1 at least.
+        private static final int MOST_CARDS = 18;
 
-        // The same cards drawn in another order lead to the same chance: it is reckoned once and kept here,
-        // by a key that counts the cards drawn of each rank in five bits.
-        private final long[] keys = new long[SLOTS];
-        private final double[] chances = new double[SLOTS];
         private final int[] left = new int[RANKS + 1];
         private int end;
         private boolean drawsAtSoft;
 
         double chanceOf(int value, CardTable table) {
-            Arrays.fill(keys, 0L);
             int all = 0;
             for (int rank = 1; rank < left.length; rank++) {
                 left[rank] = table.shoe.unseenOf(rank);
@@ -1404,54 +1398,29 @@ public final class ShoeHouse {
             end = value;
             drawsAtSoft = table.drawsAtSoft;
             int rank = table.dealer.rankAt(0);
-            return chanceFrom(this, rank, rank == 1, all, NOTHING_DRAWN, 0);
+            return chanceFrom(this, rank, rank == 1, all, 1);
         }
 
-        private static double chanceFrom(DealerOdds odds, int hard, boolean hasAce, int all, long key, int depth) {
+        private static double chanceFrom(DealerOdds odds, int hard, boolean hasAce, int all, int cards) {
             boolean isSoft = hasAce && hard <= 11;
             int value = isSoft ? hard + 10 : hard;
             if (value > 17 || value == 17 && !(isSoft && odds.drawsAtSoft)) {
                 return Math.min(value, 22) == odds.end ? 1.0 : 0.0;
             }
-            if (all < 1 || depth > MOST_CARDS) {
+            if (all < 1 || cards > MOST_CARDS) {
                 return 0.0;
-            }
-            int slot = odds.slotOf(key);
-            if (slot >= 0 && slot < SLOTS && odds.keys[slot] == key) {
-                return odds.chances[slot];
             }
             double sum = 0.0;
             for (int rank = 1; rank < odds.left.length; rank++) {
                 int number = odds.left[rank];
                 if (number > 0) {
                     odds.left[rank] = number - 1;
-                    long next = key + (1L << (5 * (rank - 1)));
                     sum += (double) number / (double) all
-                        * chanceFrom(odds, hard + rank, hasAce || rank == 1, all - 1, next, depth + 1);
+                        * chanceFrom(odds, hard + rank, hasAce || rank == 1, all - 1, cards + 1);
                     odds.left[rank] = number;
                 }
             }
-            odds.keep(key, sum);
             return sum;
-        }
-
-        private int slotOf(long key) {
-            int start = (int) ((key * 0x9E3779B97F4A7C15L) >>> 53);
-            for (int i = 0; i < SLOTS; i++) {
-                int slot = (start + i) & (SLOTS - 1);
-                if (keys[slot] == key || keys[slot] == 0L) {
-                    return slot;
-                }
-            }
-            return -1;
-        }
-
-        private void keep(long key, double chance) {
-            int slot = slotOf(key);
-            if (slot >= 0 && slot < SLOTS) {
-                keys[slot] = key;
-                chances[slot] = chance;
-            }
         }
     }
 

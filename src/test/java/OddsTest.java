@@ -64,7 +64,7 @@ public final class OddsTest {
         house.bet(0, 0, 2);
         house.bet(2, 0, 2);
         house.deal();
-        for (int i = 0; i < 12 && isOn(house); i++) {
+        for (int i = 0; i < 12 && Scene.isOn(house); i++) {
             compare(house, isSoft);
             Expect.same("sound", house.isSound(), true);
             if (random.nextBoolean()) {
@@ -75,14 +75,6 @@ public final class OddsTest {
         }
     }
 
-    private static boolean isOn(ShoeHouse house) {
-        try {
-            return house.turn() >= 0;
-        } catch (IllegalStateException over) {
-            return false;
-        }
-    }
-
     /** A round in which the shoe ends: the last chances are 0.0, as no card comes any more. */
     private static void fewCards() {
         ShoeHouse house = Scene.withGuests(1, 5000);
@@ -90,9 +82,7 @@ public final class OddsTest {
         house.cut(39);
         for (char seats : "3333212331".toCharArray()) {
             deal(house, seats - '0');
-            for (int i = 0; i < 3 && isOn(house); i++) {
-                house.stand(house.turn());
-            }
+            Scene.standAll(house);
         }
         deal(house, 3);
         house.split(0);

@@ -200,43 +200,21 @@ public final class RoundTest {
     /** Rounds of one seat until there are fewer than 30 cards. */
     private static void playDown(ShoeHouse house, int enough) {
         int rounds = 0;
-        while (cardsLeft(house) > enough && rounds < 12) {
+        while (Scene.cardsLeft(house) > enough && rounds < 12) {
             house.bet(0, 0, 2);
             house.deal();
-            standAll(house);
+            Scene.standAll(house);
             rounds++;
         }
-        int cards = cardsLeft(house);
+        int cards = Scene.cardsLeft(house);
         house.bet(0, 0, 2);
         if (cards >= 30) {
             house.deal();
             Expect.unsupported(house, "fewer than 30 in a round", house::deal);
-            standAll(house);
+            Scene.standAll(house);
             house.bet(0, 0, 2);
         }
         Expect.unsupported(house, "fewer than 30", house::deal);
-    }
-
-    private static int cardsLeft(ShoeHouse house) {
-        int sum = 0;
-        for (int rank = 1; rank <= 10; rank++) {
-            sum += house.left(rank);
-        }
-        return sum;
-    }
-
-    private static boolean isOn(ShoeHouse house) {
-        try {
-            return house.turn() >= 0;
-        } catch (IllegalStateException over) {
-            return false;
-        }
-    }
-
-    private static void standAll(ShoeHouse house) {
-        for (int i = 0; i < 6 && isOn(house); i++) {
-            house.stand(house.turn());
-        }
     }
 
     private static void dealingToThree() {
@@ -553,7 +531,7 @@ public final class RoundTest {
             Expect.same("two tens", house.split(0), 20);
             handHas(house, 0, 0, "10 10 ");
             handHas(house, 0, 1, "10 10 ");
-            standAll(house);
+            Scene.standAll(house);
         }
         Expect.same("even", house.chips(0), 1000);
         house.bet(0, 0, 20);
@@ -636,7 +614,7 @@ public final class RoundTest {
         ShoeHouse lostFirst = dealtToTwo("i i 18 o");
         handHas(lostFirst, 0, 0, "5 10 ");
         handHas(lostFirst, 2, 0, "10 10 ");
-        standAll(lostFirst);
+        Scene.standAll(lostFirst);
         dealerHas(lostFirst, "2 7 8 ");
         Expect.same("the lost stake pays the other", lostFirst.vault(), 98000);
         Expect.same("tray", lostFirst.tray(0), 0);
@@ -644,7 +622,7 @@ public final class RoundTest {
         ShoeHouse wonFirst = dealtToTwo("i i i 33");
         handHas(wonFirst, 0, 0, "10 10 ");
         handHas(wonFirst, 2, 0, "3 5 ");
-        standAll(wonFirst);
+        Scene.standAll(wonFirst);
         dealerHas(wonFirst, "8 10 ");
         Expect.same("the vault paid the first", wonFirst.vault(), 97980);
         Expect.same("the second is in the tray", wonFirst.tray(0), 20);
@@ -739,7 +717,7 @@ public final class RoundTest {
                 house.bet(seat, 0, 2);
             }
             house.deal();
-            standAll(house);
+            Scene.standAll(house);
         }
         Scene.mix(house, recipe);
         for (int seat = 0; seat < 3; seat++) {
@@ -761,11 +739,11 @@ public final class RoundTest {
         hitAll(house, 0);
         house.split(1);
         hitAll(house, 1);
-        Expect.same("one card and the hidden one", cardsLeft(house), 2);
+        Expect.same("one card and the hidden one", Scene.cardsLeft(house), 2);
         Expect.same("a pair", house.cardAt(2, 0, 0), house.cardAt(2, 0, 1));
         Expect.unsupported(house, "a split takes two", () -> house.split(2));
         house.hit(2);
-        Expect.same("only the hidden one", cardsLeft(house), 1);
+        Expect.same("only the hidden one", Scene.cardsLeft(house), 1);
         Expect.unsupported(house, "no card", () -> house.hit(2));
         Expect.unsupported(house, "no card", () -> house.riffle(true));
         Expect.argument(house, "no card", () -> house.cut(1));
@@ -776,7 +754,7 @@ public final class RoundTest {
         Expect.same("over", house.stand(2), -1);
         dealerHas(house, "2 3 ");
         isOver(house);
-        Expect.same("all were seen", cardsLeft(house), 0);
+        Expect.same("all were seen", Scene.cardsLeft(house), 0);
         Expect.arithmetic(house, "all were seen", house::trueCount);
         Expect.arithmetic(house, "all were seen", () -> house.bustOver(12));
         Expect.arithmetic(house, "all were seen", () -> house.bustUnder(12));
@@ -795,7 +773,7 @@ public final class RoundTest {
         house.split(1);
         hitAll(house, 1);
         Expect.same("seat 2 plays", house.turn(), 2);
-        Expect.same("only the hidden one", cardsLeft(house), 1);
+        Expect.same("only the hidden one", Scene.cardsLeft(house), 1);
         Expect.none(house, "two cards", () -> house.cardAt(2, 0, 2));
         Expect.unsupported(house, "no card to double", () -> house.twice(2));
         Expect.same("over", house.stand(2), -1);
@@ -814,18 +792,18 @@ public final class RoundTest {
         Expect.same("8 of 4 but what is left", seen, 8 - house.left(4));
         house.twice(2);
         Expect.none(house, "a double takes the last one", () -> house.cardAt(2, 0, 3));
-        Expect.same("and the dealer none", cardsLeft(house), 0);
+        Expect.same("and the dealer none", Scene.cardsLeft(house), 0);
         dealerHas(house, "2 3 ");
         isOver(house);
         ShoeHouse two = playedDown(30, "13131331133", "o");
         two.split(0);
         hitAll(two, 0);
         hitAll(two, 1);
-        Expect.same("two cards and the hidden one", cardsLeft(two), 3);
+        Expect.same("two cards and the hidden one", Scene.cardsLeft(two), 3);
         two.split(2);
-        Expect.same("a split takes both", cardsLeft(two), isOn(two) ? 1 : 0);
-        standAll(two);
-        Expect.same("no card for the dealer", cardsLeft(two), 0);
+        Expect.same("a split takes both", Scene.cardsLeft(two), Scene.isOn(two) ? 1 : 0);
+        Scene.standAll(two);
+        Expect.same("no card for the dealer", Scene.cardsLeft(two), 0);
         Expect.none(two, "no third card", () -> two.dealerAt(2));
         isOver(two);
     }
@@ -833,11 +811,11 @@ public final class RoundTest {
     private static void dealerTakesTheLastCard() {
         ShoeHouse house = playedDown(30, "11233113323", "5");
         for (int seat = 0; seat < 3; seat++) {
-            for (int i = 0; i < 40 && isOn(house) && house.turn() == seat; i++) {
+            for (int i = 0; i < 40 && Scene.isOn(house) && house.turn() == seat; i++) {
                 house.hit(seat);
             }
         }
-        Expect.same("no card is left", cardsLeft(house), 0);
+        Expect.same("no card is left", Scene.cardsLeft(house), 0);
         Expect.same("the dealer drew", house.dealerAt(2) > 0, true);
         isOver(house);
     }
@@ -851,9 +829,9 @@ public final class RoundTest {
                 house.bet(seat, 0, 20);
             }
             house.deal();
-            standAll(house);
+            Scene.standAll(house);
         }
-        Expect.same("29 cards", cardsLeft(house), 29);
+        Expect.same("29 cards", Scene.cardsLeft(house), 29);
         house.bet(0, 0, 20);
         Expect.unsupported(house, "29 are too few", house::deal);
     }
@@ -865,7 +843,7 @@ public final class RoundTest {
         house.bet(0, 0, 20);
         house.bet(1, 0, 20);
         house.deal();
-        standAll(house);
+        Scene.standAll(house);
         house.bet(0, 0, 20);
         int before = house.chips(0);
         house.deal();
@@ -887,7 +865,7 @@ public final class RoundTest {
         Expect.argument(house, "a round goes on, 3 decks", () -> house.lay(3));
         Expect.argument(house, "a round goes on, all cards", () -> house.cut(48));
         house.split(0);
-        standAll(house);
+        Scene.standAll(house);
         house.bet(1, 0, 5);
         handHas(house, 0, 1, "8 9 ");
         house.lay(1);

@@ -30,4 +30,27 @@ final class Scene {
             }
         }
     }
+
+    static boolean isOn(ShoeHouse house) {
+        try {
+            return house.turn() >= 0;
+        } catch (IllegalStateException over) {
+            return false;
+        }
+    }
+
+    static void standAll(ShoeHouse house) {
+        for (int i = 0; i < 6 && isOn(house); i++) {
+            house.stand(house.turn());
+        }
+    }
+
+    /** The cards that were not seen. */
+    static int cardsLeft(ShoeHouse house) {
+        int sum = 0;
+        for (int rank = 1; rank <= 10; rank++) {
+            sum += house.left(rank);
+        }
+        return sum;
+    }
 }
