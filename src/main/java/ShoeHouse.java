@@ -1090,12 +1090,12 @@ public final class ShoeHouse {
             return place >= 0 && place < size && place < cards.length ? cards[place] : 0;
         }
 
-        boolean isSoft() {
-            return hasAce && sum <= 11;
+        int value() {
+            return hasAce && sum <= 11 ? sum + 10 : sum;
         }
 
-        int value() {
-            return isSoft() ? sum + 10 : sum;
+        boolean isSoft() {
+            return value() > sum;
         }
 
         boolean isPair() {

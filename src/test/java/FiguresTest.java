@@ -138,6 +138,15 @@ public final class FiguresTest {
             Expect.same("bits below 0", house.vaultBits(), bits(house.vault()));
         }
         Expect.same("far below 0", house.vault() < -100000, true);
+        ShoeHouse deep = Scene.withGuests(7, 9000);
+        for (int guest = 0; guest < 7; guest++) {
+            for (int i = 0; i < 10; i++) {
+                deep.wager(guest, 'n', 17, 500);
+            }
+            deep.spin(17);
+            Expect.same("bits far below 0", deep.vaultBits(), bits(deep.vault()));
+        }
+        Expect.same("some -12 times all chips", deep.vault(), 37000 - 7 * 175000);
     }
 
     private static void shares() {
