@@ -40,7 +40,7 @@ public final class ShoeHouse {
 
     // ---- guests, chips
 
-    public int guest(int money) {
+    public int guest(int money) throws IllegalArgumentException, IllegalStateException {
         needRange(money, 0, 99999);
         if (guestCount < 0 || guestCount >= guests.length) {
             throw new IllegalStateException("there are as many guests as there can be");
@@ -50,7 +50,7 @@ public final class ShoeHouse {
         return guestCount - 1;
     }
 
-    public int buyIn(int guest, int coins) {
+    public int buyIn(int guest, int coins) throws IndexOutOfBoundsException, IllegalArgumentException, UnsupportedOperationException {
         Guest buyer = guestAt(guest);
         needRange(coins, 1, 9999);
         if (buyer.money < coins || vault.chips < coins) {
@@ -61,7 +61,7 @@ public final class ShoeHouse {
         return buyer.chips;
     }
 
-    public int cashOut(int guest, int chips) {
+    public int cashOut(int guest, int chips) throws IndexOutOfBoundsException, IllegalArgumentException, UnsupportedOperationException {
         Guest seller = guestAt(guest);
         needRange(chips, 1, 99999);
         if (seller.chips < chips) {
@@ -73,14 +73,14 @@ public final class ShoeHouse {
         return seller.money;
     }
 
-    public int limit(int guest, int chips) {
+    public int limit(int guest, int chips) throws IndexOutOfBoundsException, IllegalArgumentException {
         Guest player = guestAt(guest);
         needRange(chips, 0, 5000);
         player.tellLimit(chips);
         return player.limit;
     }
 
-    public int bar(int guest, int until) {
+    public int bar(int guest, int until) throws IndexOutOfBoundsException, IllegalArgumentException {
         Guest player = guestAt(guest);
         if (until <= today || until > LAST_DAY || until < player.barredUntil) {
             throw new IllegalArgumentException("no day to be barred until");
@@ -93,7 +93,7 @@ public final class ShoeHouse {
         return back;
     }
 
-    public int pass(int days) {
+    public int pass(int days) throws IllegalArgumentException, IllegalStateException {
         needRange(days, 1, 30);
         if (table.isOn || machine.isSpinning()) {
             throw new IllegalStateException("a round or a spin goes on");
@@ -108,7 +108,7 @@ public final class ShoeHouse {
         return today;
     }
 
-    public int fill(int table, int chips) {
+    public int fill(int table, int chips) throws IndexOutOfBoundsException, IllegalArgumentException, UnsupportedOperationException {
         Tray tray = trayAt(table);
         needRange(chips, 1, 9999);
         if (vault.chips < chips) {
@@ -118,7 +118,7 @@ public final class ShoeHouse {
         return tray.chips;
     }
 
-    public int credit(int table, int chips) {
+    public int credit(int table, int chips) throws IndexOutOfBoundsException, IllegalArgumentException, UnsupportedOperationException {
         Tray tray = trayAt(table);
         needRange(chips, 1, 9999);
         if (tray.chips < chips) {
@@ -137,13 +137,13 @@ public final class ShoeHouse {
         return sum;
     }
 
-    public int win(int table) {
+    public int win(int table) throws IndexOutOfBoundsException {
         return trayAt(table).winOfShift();
     }
 
     // ---- the shoe, rounds
 
-    public boolean rule(char letter, boolean is) {
+    public boolean rule(char letter, boolean is) throws IllegalArgumentException, IllegalStateException {
         if (letter != 'd' && letter != 'u' && letter != 's' && letter != 'n') {
             throw new IllegalArgumentException("no such letter");
         }
@@ -151,7 +151,7 @@ public final class ShoeHouse {
         return table.tellRule(letter, is);
     }
 
-    public int lay(int decks) {
+    public int lay(int decks) throws IllegalArgumentException, IllegalStateException {
         needRange(decks, 1, 2);
         needNoRound();
         shoe.layDecks(decks);
@@ -159,7 +159,7 @@ public final class ShoeHouse {
         return shoe.size();
     }
 
-    public int cut(int cards) {
+    public int cut(int cards) throws IllegalArgumentException, IllegalStateException {
         if (cards < 1 || cards >= shoe.size()) {
             throw new IllegalArgumentException("not between the first and the last card");
         }
@@ -168,7 +168,7 @@ public final class ShoeHouse {
         return shoe.rankAt(0);
     }
 
-    public int riffle(boolean isOut) {
+    public int riffle(boolean isOut) throws UnsupportedOperationException, IllegalStateException {
         if (shoe.size() == 0) {
             throw new UnsupportedOperationException("the shoe has no cards");
         }
@@ -177,7 +177,7 @@ public final class ShoeHouse {
         return shoe.rankAt(0);
     }
 
-    public int bet(int seat, int guest, int chips) {
+    public int bet(int seat, int guest, int chips) throws IndexOutOfBoundsException, IllegalArgumentException, UnsupportedOperationException, IllegalStateException {
         Seat place = seatAt(seat);
         Guest player = guestAt(guest);
         needRange(chips, 2, 1000);
@@ -192,7 +192,7 @@ public final class ShoeHouse {
         return player.chips;
     }
 
-    public int deal() {
+    public int deal() throws UnsupportedOperationException, IllegalStateException {
         if (!table.hasStakes() || shoe.size() < FEWEST_TO_DEAL) {
             throw new UnsupportedOperationException("no stake, or too few cards");
         }
@@ -202,7 +202,7 @@ public final class ShoeHouse {
         return seen;
     }
 
-    public int hit(int seat) {
+    public int hit(int seat) throws IndexOutOfBoundsException, IllegalStateException, UnsupportedOperationException {
         Hand hand = handInTurn(seat);
         needCards(1);
         int value = table.giveCard(hand);
@@ -210,14 +210,14 @@ public final class ShoeHouse {
         return value;
     }
 
-    public int stand(int seat) {
+    public int stand(int seat) throws IndexOutOfBoundsException, IllegalStateException, UnsupportedOperationException {
         Hand hand = handInTurn(seat);
         hand.isPlaying = false;
         table.finishIfNobodyPlays();
         return table.seatInTurn();
     }
 
-    public int twice(int seat) {
+    public int twice(int seat) throws IndexOutOfBoundsException, IllegalStateException, UnsupportedOperationException {
         Hand hand = handInTurn(seat);
         Seat place = seatAt(seat);
         if (hand.size != 2 || place.isSplit && !table.doublesSplits) {
@@ -233,7 +233,7 @@ public final class ShoeHouse {
         return value;
     }
 
-    public int split(int seat) {
+    public int split(int seat) throws IndexOutOfBoundsException, IllegalStateException, UnsupportedOperationException {
         Hand hand = handInTurn(seat);
         Seat place = seatAt(seat);
         if (place.isSplit || !hand.isPair()) {
@@ -249,7 +249,7 @@ public final class ShoeHouse {
         return value;
     }
 
-    public int surrender(int seat) {
+    public int surrender(int seat) throws IndexOutOfBoundsException, IllegalStateException, UnsupportedOperationException {
         Hand hand = handInTurn(seat);
         Seat place = seatAt(seat);
         if (!table.surrenders || place.isSplit || hand.size != 2) {
@@ -260,7 +260,7 @@ public final class ShoeHouse {
         return back;
     }
 
-    public int cardAt(int seat, int hand, int place) {
+    public int cardAt(int seat, int hand, int place) throws IndexOutOfBoundsException, NoSuchElementException {
         Seat at = seatAt(seat);
         if (hand != 0 && (hand != 1 || !at.isSplit)) {
             throw new IndexOutOfBoundsException("no such hand");
@@ -272,7 +272,7 @@ public final class ShoeHouse {
         return rank;
     }
 
-    public int dealerAt(int place) {
+    public int dealerAt(int place) throws NoSuchElementException {
         int rank = table.isOn && place != 0 ? 0 : table.dealer.rankAt(place);
         if (rank == 0) {
             throw new NoSuchElementException("no such card, or it is hidden");
@@ -280,35 +280,35 @@ public final class ShoeHouse {
         return rank;
     }
 
-    public int turn() {
+    public int turn() throws IllegalStateException {
         needRound();
         return table.seatInTurn();
     }
 
-    public int left(int rank) {
+    public int left(int rank) throws IllegalArgumentException {
         needRange(rank, 1, RANKS);
         return shoe.unseenOf(rank);
     }
 
-    public long bustOver(int value) {
+    public long bustOver(int value) throws IllegalArgumentException, ArithmeticException {
         needRange(value, 4, 21);
         needUnseen();
         return lowestOver(shoe.unseenAbove(21 - value), shoe.unseen());
     }
 
-    public long bustUnder(int value) {
+    public long bustUnder(int value) throws IllegalArgumentException, ArithmeticException {
         needRange(value, 4, 21);
         needUnseen();
         return lowestUnder(shoe.unseenAbove(21 - value), shoe.unseen());
     }
 
-    public double dealerEnds(int value) {
+    public double dealerEnds(int value) throws IllegalArgumentException, IllegalStateException {
         needRange(value, 17, 22);
         needRound();
         return odds.chanceOf(value, table);
     }
 
-    public int weigh(int rank, int weight) {
+    public int weigh(int rank, int weight) throws IllegalArgumentException {
         needRange(rank, 1, RANKS);
         needRange(weight, -3, 3);
         return shoe.tellWeight(rank, weight);
@@ -318,12 +318,12 @@ public final class ShoeHouse {
         return shoe.countSeen();
     }
 
-    public int trueCount() {
+    public int trueCount() throws ArithmeticException {
         needUnseen();
         return shoe.countByDeck();
     }
 
-    public boolean isSuspected(int guest) {
+    public boolean isSuspected(int guest) throws IndexOutOfBoundsException {
         return guestAt(guest).isBettingByCount();
     }
 
@@ -333,7 +333,7 @@ public final class ShoeHouse {
 
     // ---- the wheel, the machine
 
-    public int wager(int guest, char kind, int number, int chips) {
+    public int wager(int guest, char kind, int number, int chips) throws IndexOutOfBoundsException, IllegalArgumentException, UnsupportedOperationException, IllegalStateException {
         Guest player = guestAt(guest);
         if (!Wheel.isWager(kind, number)) {
             throw new IllegalArgumentException("no such wager");
@@ -348,12 +348,12 @@ public final class ShoeHouse {
         return wheel.size;
     }
 
-    public int spin(int number) {
+    public int spin(int number) throws IllegalArgumentException {
         needRange(number, 0, 36);
         return wheel.settleAll(number);
     }
 
-    public int stops(int reel, int symbols) {
+    public int stops(int reel, int symbols) throws IndexOutOfBoundsException, IllegalArgumentException, IllegalStateException {
         if (reel < 0 || reel >= Machine.REELS) {
             throw new IndexOutOfBoundsException("no such reel");
         }
@@ -364,14 +364,14 @@ public final class ShoeHouse {
         return machine.tellSymbols(reel, symbols);
     }
 
-    public int pays(int symbol, int times) {
+    public int pays(int symbol, int times) throws IllegalArgumentException, IllegalStateException {
         needRange(symbol, 0, Machine.SYMBOLS - 1);
         needRange(times, 0, 200);
         needNoSpin();
         return machine.tellTimes(symbol, times);
     }
 
-    public int bound(int chips) {
+    public int bound(int chips) throws IllegalArgumentException, IllegalStateException {
         needRange(chips, 1, 5000);
         needNoSpin();
         int before = machine.bound;
@@ -379,7 +379,7 @@ public final class ShoeHouse {
         return before;
     }
 
-    public int pull(int guest, int chips) {
+    public int pull(int guest, int chips) throws IndexOutOfBoundsException, IllegalArgumentException, UnsupportedOperationException, IllegalStateException {
         Guest player = guestAt(guest);
         needRange(chips, 1, 100);
         needStake(player, chips);
@@ -391,7 +391,7 @@ public final class ShoeHouse {
         return player.chips;
     }
 
-    public int stop(int stops) {
+    public int stop(int stops) throws IllegalArgumentException, IllegalStateException {
         if (!Machine.areStops(stops)) {
             throw new IllegalArgumentException("not three stops");
         }
@@ -399,13 +399,13 @@ public final class ShoeHouse {
         return machine.settleAt(stops);
     }
 
-    public int tilt() {
+    public int tilt() throws IllegalStateException {
         needSpin();
         machine.isTilted = true;
         return machine.stake;
     }
 
-    public int recover() {
+    public int recover() throws IllegalStateException {
         Guest player = machine.player;
         if (player == null || !machine.isTilted) {
             throw new IllegalStateException("no spin is to be recovered");
@@ -428,7 +428,7 @@ public final class ShoeHouse {
 
     // ---- lotteries
 
-    public int ticket(int guest, int numbers) {
+    public int ticket(int guest, int numbers) throws IndexOutOfBoundsException, IllegalArgumentException, UnsupportedOperationException, IllegalStateException {
         Guest buyer = guestAt(guest);
         needThreeNumbers(numbers);
         needStake(buyer, Lottery.PRICE);
@@ -440,20 +440,20 @@ public final class ShoeHouse {
         return lottery.sold;
     }
 
-    public int draw(int numbers) {
+    public int draw(int numbers) throws IllegalArgumentException {
         needThreeNumbers(numbers);
         lottery.drawn = Lottery.setOf(numbers);
         return lottery.ticketsWithRight(3);
     }
 
-    public int confirm() {
+    public int confirm() throws IllegalStateException {
         if (!lottery.isDrawn()) {
             throw new IllegalStateException("no draw is to be confirmed");
         }
         return lottery.giveOut(today);
     }
 
-    public int claim(int guest) {
+    public int claim(int guest) throws IndexOutOfBoundsException, NoSuchElementException {
         Guest winner = guestAt(guest);
         int prizes = winner.allPrizes();
         if (prizes == 0) {
@@ -474,27 +474,27 @@ public final class ShoeHouse {
         return today;
     }
 
-    public int money(int guest) {
+    public int money(int guest) throws IndexOutOfBoundsException {
         return guestAt(guest).money;
     }
 
-    public int chips(int guest) {
+    public int chips(int guest) throws IndexOutOfBoundsException {
         return guestAt(guest).chips;
     }
 
-    public boolean isBarred(int guest) {
+    public boolean isBarred(int guest) throws IndexOutOfBoundsException {
         return guestAt(guest).isBarredOn(today);
     }
 
-    public int staked(int guest) {
+    public int staked(int guest) throws IndexOutOfBoundsException {
         return guestAt(guest).staked;
     }
 
-    public int reports(int guest) {
+    public int reports(int guest) throws IndexOutOfBoundsException {
         return guestAt(guest).reports;
     }
 
-    public int tray(int table) {
+    public int tray(int table) throws IndexOutOfBoundsException {
         return trayAt(table).chips;
     }
 
@@ -502,12 +502,12 @@ public final class ShoeHouse {
         return vault.chips;
     }
 
-    public long ruinOver(int chips, int goal) {
+    public long ruinOver(int chips, int goal) throws IllegalArgumentException {
         needRuin(chips, goal);
         return lowestOver(ruinPart(chips, goal), power(19, goal) - power(18, goal));
     }
 
-    public long ruinUnder(int chips, int goal) {
+    public long ruinUnder(int chips, int goal) throws IllegalArgumentException {
         needRuin(chips, goal);
         return lowestUnder(ruinPart(chips, goal), power(19, goal) - power(18, goal));
     }
@@ -532,7 +532,7 @@ public final class ShoeHouse {
         return bitsOf((float) vault.chips / (float) ALL_CHIPS);
     }
 
-    public float barredShare() {
+    public float barredShare() throws ArithmeticException {
         needGuests();
         int barred = 0;
         for (int i = 0; i < guestCount && i < guests.length; i++) {
@@ -543,7 +543,7 @@ public final class ShoeHouse {
         return (float) barred / (float) guestCount;
     }
 
-    public double meanChips() {
+    public double meanChips() throws ArithmeticException {
         needGuests();
         return (double) chipsOfGuests() / (double) guestCount;
     }

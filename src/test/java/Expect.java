@@ -25,6 +25,10 @@ final class Expect {
         judge(isSame, what, Float.toString(got), Float.toString(due));
     }
 
+    static void same(String what, String got, String due) {
+        judge(got.equals(due), what, got, due);
+    }
+
     static void index(ShoeHouse house, String what, Runnable call) {
         refused(house, IndexOutOfBoundsException.class, what, call);
     }
