@@ -261,11 +261,11 @@ public final class ShoeHouse {
     }
 
     public int cardAt(int seat, int hand, int place) throws IndexOutOfBoundsException, NoSuchElementException {
-        Seat at = seatAt(seat);
-        if (hand != 0 && (hand != 1 || !at.isSplit)) {
+        Hand asked = seatAt(seat).handAt(hand);
+        if (asked == null) {
             throw new IndexOutOfBoundsException("no such hand");
         }
-        int rank = hand == 0 ? at.first.rankAt(place) : at.second.rankAt(place);
+        int rank = asked.rankAt(place);
         if (rank == 0) {
             throw new NoSuchElementException("no such card");
         }
@@ -1140,6 +1140,18 @@ public final class ShoeHouse {
         void take(Guest player, int chips) {
             guest = player;
             first.stake = chips;
+        }
+
+        /** A hand that was dealt or split off, also in the last round; null if there is none of this number. */
+        Hand handAt(int number) {
+            Hand hand = null;
+            if (number == 0) {
+                hand = first;
+            } else if (number == 1) {
+                hand = second;
+            }
+            // Each hand has cards from its deal or split on, so one without cards is no hand.
+            return hand != null && hand.size > 0 ? hand : null;
         }
 
         Hand handThatPlays() {

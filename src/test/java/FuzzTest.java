@@ -52,6 +52,28 @@ public final class FuzzTest {
             if (i % 25 == 0) {
                 Expect.same("run " + seed + " is sound", house.isSound(), true);
             }
+            handsHaveCards(house, seed);
+        }
+    }
+
+    /** Each hand has two cards or more, so where there is no card at the first two places there is no hand. */
+    private static void handsHaveCards(ShoeHouse house, int seed) {
+        for (int seat = 0; seat < 3; seat++) {
+            for (int hand = 0; hand < 2; hand++) {
+                String first = cardOrRefusal(house, seat, hand, 0);
+                String where = "run " + seed + ", hand " + hand + " at seat " + seat + ": " + first;
+                Expect.same(where, first.equals("card") || first.equals("IX"), true);
+                Expect.same(where, cardOrRefusal(house, seat, hand, 1), first);
+                Expect.same(where, cardOrRefusal(house, seat, hand, -1), first.equals("card") ? "NS" : "IX");
+            }
+        }
+    }
+
+    private static String cardOrRefusal(ShoeHouse house, int seat, int hand, int place) {
+        try {
+            return house.cardAt(seat, hand, place) >= 1 ? "card" : "no rank";
+        } catch (RuntimeException refused) {
+            return shortName(refused);
         }
     }
 

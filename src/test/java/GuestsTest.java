@@ -45,7 +45,7 @@ public final class GuestsTest {
         Expect.index(house, "no guest", () -> house.money(0));
         Expect.state(house, "no round", house::turn);
         Expect.none(house, "no dealer", () -> house.dealerAt(0));
-        Expect.none(house, "no card", () -> house.cardAt(0, 0, 0));
+        Expect.index(house, "no hand", () -> house.cardAt(0, 0, 0));
         Expect.same("sound", house.isSound(), true);
     }
 

@@ -55,6 +55,8 @@ public final class RoundTest {
         cardsToDeal();
         dealerAtTwentyTwo();
         layForgets();
+        seatsWithoutHands();
+        handsOfTheLastRound();
         Expect.end(RoundTest.class);
     }
 
@@ -180,7 +182,7 @@ public final class RoundTest {
         dealerHas(house, "10 ");
         Expect.same("the hidden one is left", house.left(7), 4);
         Expect.same("the seen one is not", house.left(10), 15);
-        Expect.none(house, "another seat", () -> house.cardAt(0, 0, 0));
+        Expect.index(house, "another seat", () -> house.cardAt(0, 0, 0));
         Expect.none(house, "no third card", () -> house.cardAt(1, 0, 2));
         Expect.none(house, "place -1", () -> house.cardAt(1, 0, -1));
         Expect.index(house, "no second hand", () -> house.cardAt(1, 1, 0));
@@ -869,11 +871,74 @@ public final class RoundTest {
         house.bet(1, 0, 5);
         handHas(house, 0, 1, "8 9 ");
         house.lay(1);
-        Expect.none(house, "forgotten", () -> house.cardAt(0, 0, 0));
+        Expect.index(house, "forgotten", () -> house.cardAt(0, 0, 0));
         Expect.index(house, "forgotten", () -> house.cardAt(0, 1, 0));
         Expect.none(house, "forgotten", () -> house.dealerAt(0));
         house.deal();
-        Expect.none(house, "not dealt", () -> house.cardAt(0, 0, 0));
+        Expect.index(house, "not dealt", () -> house.cardAt(0, 0, 0));
         handHas(house, 1, 0, "1 1 ");
+    }
+
+    /** Promise 23: a seat to which no cards were dealt has no hand, whatever place is asked. */
+    private static void hasNoHands(ShoeHouse house, String what, int seat) {
+        for (int hand = -1; hand <= 2; hand++) {
+            hasNoHand(house, what, seat, hand);
+        }
+    }
+
+    private static void hasNoHand(ShoeHouse house, String what, int seat, int hand) {
+        for (int place : new int[] {Integer.MIN_VALUE, -1, 0, 1, 2, 22, Integer.MAX_VALUE}) {
+            String call = what + ", cardAt(" + seat + ", " + hand + ", " + place + ")";
+            Expect.index(house, call, () -> house.cardAt(seat, hand, place));
+        }
+    }
+
+    private static void seatsWithoutHands() {
+        ShoeHouse house = new ShoeHouse();
+        for (int seat = -1; seat <= 3; seat++) {
+            hasNoHands(house, "a new house", seat);
+        }
+        house.guest(1000);
+        house.buyIn(0, 1000);
+        Scene.lay(house, 1, EIGHTS);
+        hasNoHands(house, "no round yet", 1);
+        house.bet(1, 0, 20);
+        hasNoHands(house, "a stake ahead of the deal", 1);
+        house.deal();
+        handHas(house, 1, 0, "8 8 ");
+        hasNoHand(house, "not split", 1, 1);
+        hasNoHands(house, "no stake in this round", 0);
+        hasNoHands(house, "no stake in this round", 2);
+        house.split(1);
+        Expect.none(house, "no third card of the first hand", () -> house.cardAt(1, 0, 2));
+        Expect.none(house, "no third card of the second hand", () -> house.cardAt(1, 1, 2));
+        Expect.none(house, "no place -1 of the second hand", () -> house.cardAt(1, 1, -1));
+        hasNoHand(house, "a split has two hands", 1, 2);
+        hasNoHand(house, "a split has two hands", 1, -1);
+        Scene.standAll(house);
+        hasNoHands(house, "no stake in the last round", 0);
+        house.lay(2);
+        hasNoHands(house, "the last round is forgotten", 1);
+    }
+
+    private static void handsOfTheLastRound() {
+        ShoeHouse house = Scene.withGuests(1, 1000);
+        house.lay(1);
+        house.cut(36);
+        house.bet(0, 0, 20);
+        house.deal();
+        house.split(0);
+        Scene.standAll(house);
+        house.bet(1, 0, 20);
+        handHas(house, 0, 0, "10 10 ");
+        handHas(house, 0, 1, "10 10 ");
+        hasNoHands(house, "a stake ahead of the next deal", 1);
+        house.cut(1);
+        house.riffle(true);
+        handHas(house, 0, 1, "10 10 ");
+        house.deal();
+        hasNoHands(house, "no stake in the next round", 0);
+        Expect.none(house, "a hand without a third card", () -> house.cardAt(1, 0, 2));
+        hasNoHand(house, "not split", 1, 1);
     }
 }
