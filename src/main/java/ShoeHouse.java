@@ -1114,8 +1114,12 @@ public final class ShoeHouse {
             return settled;
         }
 
-        int takeBack() {
+        /** Gives a stake that is not settled back; what was dealt for it is no hand any more. */
+        int takeBack(boolean isDealt) {
             int back = stake;
+            if (isDealt && back > 0) {
+                forgetCards();
+            }
             stake = 0;
             isPlaying = false;
             return back;
@@ -1142,7 +1146,7 @@ public final class ShoeHouse {
             first.stake = chips;
         }
 
-        /** A hand that was dealt or split off, also in the last round; null if there is none of this number. */
+        /** A hand that was dealt or split off and not taken away, also in the last round; null if there is none. */
         Hand handAt(int number) {
             Hand hand = null;
             if (number == 0) {
@@ -1150,7 +1154,7 @@ public final class ShoeHouse {
             } else if (number == 1) {
                 hand = second;
             }
-            // Each hand has cards from its deal or split on, so one without cards is no hand.
+            // Each hand has cards from its deal or split on till it is taken away, so one without cards is no hand.
             return hand != null && hand.size > 0 ? hand : null;
         }
 
@@ -1191,9 +1195,9 @@ public final class ShoeHouse {
             guest = null;
         }
 
-        int takeAway() {
+        int takeAway(boolean isDealt) {
             guest = null;
-            return first.takeBack() + second.takeBack();
+            return first.takeBack(isDealt) + second.takeBack(isDealt);
         }
     }
 
@@ -1261,7 +1265,8 @@ public final class ShoeHouse {
             int back = 0;
             for (Seat seat : seats) {
                 if (seat.guest == player) {
-                    back += seat.takeAway();
+                    // Between rounds the cards of a seat are of the last round, not of the stake that waits.
+                    back += seat.takeAway(isOn);
                 }
             }
             return back;

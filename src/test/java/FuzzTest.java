@@ -4,6 +4,7 @@ import java.util.Random;
 public final class FuzzTest {
     private static final int RUNS = 300;
     private static final int CALLS = 500;
+    private static final int BAR = 4;
     private static final String[] ALLOWED = {
         "IA IS", "IX IA UO", "IX IA UO", "IX IA", "IX IA", "IA IS", "IX IA UO", "IX IA UO", "", "IX",
         "IA IS", "IA IS", "IA IS", "UO IS", "IX IA UO IS", "UO IS", "IX IS UO", "IX IS UO", "IX IS UO", "IX IS UO",
@@ -37,6 +38,8 @@ public final class FuzzTest {
         for (int i = 0; i < CALLS; i++) {
             int call = random.nextInt(ALLOWED.length);
             String before = Snapshot.of(house);
+            String hands = Snapshot.hands(house);
+            boolean wasOn = Scene.isOn(house);
             String thrown = "";
             try {
                 make(house, call, random);
@@ -53,6 +56,9 @@ public final class FuzzTest {
                 Expect.same("run " + seed + " is sound", house.isSound(), true);
             }
             handsHaveCards(house, seed);
+            if (call == BAR && !wasOn) {
+                Expect.same("run " + seed + ", a bar between rounds takes no hand", Snapshot.hands(house), hands);
+            }
         }
     }
 
@@ -137,7 +143,7 @@ public final class FuzzTest {
             case 1: house.buyIn(guest(random), number(random, 1, 9999)); break;
             case 2: house.cashOut(guest(random), number(random, 1, 999)); break;
             case 3: house.limit(guest(random), number(random, 0, 5000)); break;
-            case 4: house.bar(guest(random), number(random, house.day() + 1, house.day() + 9)); break;
+            case BAR: house.bar(guest(random), number(random, house.day() + 1, house.day() + 9)); break;
             case 5: house.pass(number(random, 1, 9)); break;
             case 6: house.fill(number(random, 0, 2), number(random, 1, 999)); break;
             case 7: house.credit(number(random, 0, 2), number(random, 1, 99)); break;

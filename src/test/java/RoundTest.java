@@ -48,6 +48,9 @@ public final class RoundTest {
         barWhileAnotherPlays();
         barOfSplitsAndLostHands();
         barOfNaturals();
+        handsTakenAwayByABar();
+        barOfOneHandOfASplit();
+        barOfSettledHands();
         emptyShoe();
         emptyShoeAndTwoCards();
         lastCards();
@@ -636,7 +639,7 @@ public final class RoundTest {
         Expect.same("comes back", house.bar(0, 1), 20);
         Expect.same("chips", house.chips(0), 1000);
         Expect.same("the next seat plays", house.turn(), 2);
-        handHas(house, 0, 0, "10 10 ");
+        hasNoHands(house, "taken away", 0);
         Expect.state(house, "the seat has no stake, but a round goes on", () -> house.bet(0, 1, 5));
         Expect.same("over", house.stand(2), -1);
         dealerHas(house, "7 9 1 ");
@@ -652,7 +655,7 @@ public final class RoundTest {
         ShoeHouse only = dealt(20, BUSTS);
         Expect.same("comes back", only.bar(0, 1), 20);
         dealerHas(only, "6 10 ");
-        handHas(only, 0, 0, "10 8 ");
+        hasNoHands(only, "taken away, the round is over by that", 0);
         Expect.same("chips", only.chips(0), 1000);
         isOver(only);
     }
@@ -662,6 +665,7 @@ public final class RoundTest {
         Expect.same("comes back", house.bar(1, 1), 20);
         Expect.same("the turn stays", house.turn(), 0);
         Expect.same("the cards were seen", house.left(2), 3);
+        hasNoHands(house, "taken away", 2);
         Expect.same("over", house.stand(0), -1);
         Expect.same("won", house.chips(0), 1020);
         Expect.same("came back", house.chips(1), 1000);
@@ -679,30 +683,135 @@ public final class RoundTest {
         ShoeHouse house = dealt(20, EIGHTS);
         house.split(0);
         Expect.same("both hands", house.bar(0, 1), 40);
-        handHas(house, 0, 1, "8 9 ");
+        hasNoHands(house, "both are taken away", 0);
         dealerHas(house, "6 10 ");
         isOver(house);
         ShoeHouse lost = dealtToTwo("i 48 i i");
         lost.hit(0);
+        String lostCards = Snapshot.cards(lost, 0, 0);
         Expect.same("a lost hand is settled", lost.bar(0, 1), 0);
         Expect.same("chips", lost.chips(0), 980);
         Expect.unsupported(lost, "the seat has a settled stake", () -> lost.bet(0, 1, 5));
+        handHas(lost, 0, 0, lostCards);
         Expect.same("the turn", lost.turn(), 2);
         lost.stand(2);
+        handHas(lost, 0, 0, lostCards);
         isOver(lost);
     }
 
     private static void barOfNaturals() {
         ShoeHouse house = dealtToTwo("i i");
         Expect.same("the natural was not settled", house.bar(0, 1), 20);
+        hasNoHands(house, "the natural is taken away", 0);
         house.stand(2);
         Expect.same("nothing comes of it", house.chips(0), 1000);
         Expect.same("nothing is broken", house.broken(), 0);
         ShoeHouse other = dealtToTwo("i i");
+        String natural = Snapshot.cards(other, 0, 0);
         other.bar(1, 1);
+        hasNoHands(other, "taken away", 2);
+        handHas(other, 0, 0, natural);
         dealerHas(other, "4 7 ");
         Expect.same("a natural alone needs no dealer's cards", other.chips(0), 1030);
         isOver(other);
+    }
+
+    /** Two guests with 1000 chips each, stakes of 20 at the seats 0 and 2, tens alone, the seat 0 split. */
+    private static ShoeHouse splitTens() {
+        ShoeHouse house = Scene.withGuests(2, 1000);
+        house.bet(0, 0, 20);
+        house.bet(2, 1, 20);
+        house.lay(1);
+        house.cut(36);
+        house.deal();
+        house.split(0);
+        return house;
+    }
+
+    private static void handsTakenAwayByABar() {
+        ShoeHouse house = Scene.withGuests(2, 1000);
+        for (int seat = 0; seat < 3; seat++) {
+            house.bet(seat, seat % 2, 20);
+        }
+        house.weigh(10, -1);
+        Scene.lay(house, 1, "36");
+        house.deal();
+        Expect.same("a hand that waits", house.bar(1, 1), 20);
+        hasNoHands(house, "taken away", 1);
+        handHas(house, 0, 0, "10 10 ");
+        handHas(house, 2, 0, "10 10 ");
+        Expect.same("the cards were seen", house.left(10), 9);
+        Expect.same("the cards are counted", house.count(), -7);
+        Expect.same("both seats", house.bar(0, 1), 40);
+        hasNoHands(house, "taken away", 0);
+        hasNoHands(house, "taken away", 2);
+        dealerHas(house, "10 10 ");
+        Expect.same("the cards were seen", house.left(10), 8);
+        Expect.same("the cards are counted", house.count(), -8);
+        isOver(house);
+        house.guest(500);
+        house.buyIn(2, 100);
+        house.bet(0, 2, 20);
+        hasNoHands(house, "a stake of another ahead of the deal", 0);
+        house.deal();
+        handHas(house, 0, 0, "10 10 ");
+        hasNoHand(house, "not split", 0, 1);
+        hasNoHands(house, "of the round before", 1);
+    }
+
+    private static void barOfOneHandOfASplit() {
+        ShoeHouse first = splitTens();
+        first.hit(0);
+        Expect.same("the first hand is lost, the second plays", first.bar(0, 1), 20);
+        handHas(first, 0, 0, "10 10 10 ");
+        hasNoHand(first, "the second is taken away", 0, 1);
+        Expect.none(first, "no fourth card", () -> first.cardAt(0, 0, 3));
+        Expect.same("the turn", first.turn(), 2);
+        first.stand(2);
+        handHas(first, 0, 0, "10 10 10 ");
+        hasNoHand(first, "also of the last round", 0, 1);
+        isOver(first);
+        ShoeHouse second = splitTens();
+        second.stand(0);
+        second.hit(0);
+        Expect.same("the first hand stood, the second is lost", second.bar(0, 1), 20);
+        hasNoHand(second, "the first is taken away", 0, 0);
+        handHas(second, 0, 1, "10 10 10 ");
+        Expect.same("the turn", second.turn(), 2);
+        second.stand(2);
+        isOver(second);
+        ShoeHouse other = splitTens();
+        Expect.same("of the other guest", other.bar(1, 1), 20);
+        hasNoHands(other, "taken away", 2);
+        handHas(other, 0, 0, "10 10 ");
+        handHas(other, 0, 1, "10 10 ");
+        Expect.same("the turn", other.turn(), 0);
+    }
+
+    /** What was settled lies on no table any more, so a bar takes nothing of it away. */
+    private static void barOfSettledHands() {
+        ShoeHouse given = Scene.withGuests(2, 1000);
+        given.rule('u', true);
+        given.bet(0, 0, 20);
+        given.bet(2, 1, 20);
+        Scene.lay(given, 1, "36");
+        given.deal();
+        given.surrender(0);
+        Expect.same("a surrendered hand is settled", given.bar(0, 1), 0);
+        handHas(given, 0, 0, "10 10 ");
+        given.stand(2);
+        handHas(given, 0, 0, "10 10 ");
+        ShoeHouse house = splitTens();
+        Scene.standAll(house);
+        Expect.same("hands of the last round", house.bar(0, 1), 0);
+        handHas(house, 0, 0, "10 10 ");
+        handHas(house, 0, 1, "10 10 ");
+        house.bet(0, 1, 30);
+        Expect.same("a stake ahead of the deal", house.bar(1, 1), 30);
+        handHas(house, 0, 0, "10 10 ");
+        handHas(house, 0, 1, "10 10 ");
+        handHas(house, 2, 0, "10 10 ");
+        Expect.unsupported(house, "no seat has a stake", house::deal);
     }
 
     /** Two decks with rounds of so many seats, all standing; the low cards are the last ones. */

@@ -42,11 +42,18 @@ final class Snapshot {
             int at = place;
             text.append(' ').append(answer(() -> house.dealerAt(at)));
         }
+        text.append(hands(house));
+    }
+
+    /** The cards of all hands. */
+    static String hands(ShoeHouse house) {
+        StringBuilder text = new StringBuilder();
         for (int seat = 0; seat < 3; seat++) {
             for (int hand = 0; hand < 2; hand++) {
                 text.append(" hand ").append(cards(house, seat, hand));
             }
         }
+        return text.toString();
     }
 
     /** The ranks of a hand, a space behind each. */
