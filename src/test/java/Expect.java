@@ -2,8 +2,18 @@
 final class Expect {
     private static int checks = 0;
     private static int wrong = 0;
+    private static String sentence = "";
 
     private Expect() {
+    }
+
+    /** The sentence of the document that the next checks are about. */
+    static void about(String told) {
+        sentence = told;
+    }
+
+    static int checks() {
+        return checks;
     }
 
     static void same(String what, long got, long due) {
@@ -71,7 +81,7 @@ final class Expect {
         checks++;
         if (!isRight) {
             wrong++;
-            System.out.println(what + ": got " + got + ", due is " + due);
+            System.out.println(sentence + (sentence.isEmpty() ? "" : " | ") + what + ": got " + got + ", due is " + due);
         }
     }
 

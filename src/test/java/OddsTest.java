@@ -119,7 +119,7 @@ public final class OddsTest {
         house.deal();
     }
 
-    private static void compare(ShoeHouse house, boolean isSoft) {
+    static void compare(ShoeHouse house, boolean isSoft) {
         int[] left = new int[11];
         int all = 0;
         for (int rank = 1; rank <= 10; rank++) {

@@ -1,20 +1,5 @@
 /** Promises 12 and 16 to 25, 34: rules, bets, deals, and how hands play and are settled. */
 public final class RoundTest {
-    private static final String SEAT_NATURAL = "i 40 i o 18 o i 22 i 45 i 33"; // 1 9 10 5 7 9
-    private static final String BOTH_NATURAL = "i i i i 2 i i i i o 22"; // 1 1 10 10
-    private static final String TEN_AND_ACE = "10 i i i 48 i i 21"; // 10 10 10 1
-    private static final String ACE_AND_TEN = "i i 32 i 17"; // 10 1 10 10
-    private static final String HIT_TO_21 = "i i o o 3 i i i i 43 o i 51"; // 5 10 6 7 10 1
-    private static final String BUSTS = "32 o 41 o i 46 34 o 8"; // 10 6 8 10 10 9
-    private static final String SOFT_SIX = "i i 22 i i i i o i i 50"; // 10 6 7 1 9 2 10
-    private static final String SOFT_ACE = "o 14 i 21 38 i i i i 43"; // 10 1 8 6 3 10
-    private static final String EVEN_19 = "i o 12 3 o o o i i 9"; // 10 9 9 10
-    private static final String EIGHTS = "30 o o o 30 i 42 o i i i 30"; // 8 6 8 10 3 9 10 9 10
-    private static final String ACES = "i i i o 2 i o i i i 16"; // 1 9 1 8 10 10
-    private static final String ACES_AND_FIVE = "o i i o i o 9 24 19 i i i 1"; // 1 9 1 8 10 5 10 5
-    private static final String DOUBLE_21 = "i 19 i o i o o o 47 o 17"; // 5 6 6 10 10 10
-    private static final String DOUBLE_18 = "i i i o i i i i o o 39"; // 9 8 2 9 7
-
     private RoundTest() {
     }
 
@@ -63,44 +48,8 @@ public final class RoundTest {
         Expect.end(RoundTest.class);
     }
 
-    /** One guest with 1000 chips and a stake at seat 0, the shoe being laid. */
-    private static ShoeHouse staked(int stake, String recipe) {
-        ShoeHouse house = Scene.withGuests(1, 1000);
-        house.bet(0, 0, stake);
-        Scene.lay(house, 1, recipe);
-        return house;
-    }
-
-    private static ShoeHouse dealt(int stake, String recipe) {
-        ShoeHouse house = staked(stake, recipe);
-        house.deal();
-        return house;
-    }
-
-    /** Two guests with 1000 chips each, with stakes of 20 at the seats 0 and 2. */
-    private static ShoeHouse dealtToTwo(String recipe) {
-        ShoeHouse house = Scene.withGuests(2, 1000);
-        house.bet(0, 0, 20);
-        house.bet(2, 1, 20);
-        Scene.lay(house, 1, recipe);
-        house.deal();
-        return house;
-    }
-
-    private static String dealer(ShoeHouse house) {
-        StringBuilder text = new StringBuilder();
-        try {
-            for (int place = 0; place < 22; place++) {
-                text.append(house.dealerAt(place)).append(' ');
-            }
-        } catch (java.util.NoSuchElementException end) {
-            return text.toString();
-        }
-        return text.toString();
-    }
-
     private static void dealerHas(ShoeHouse house, String cards) {
-        Expect.same("the dealer has " + dealer(house) + "due is " + cards, dealer(house).equals(cards), true);
+        Expect.same("the dealer has " + Snapshot.dealer(house) + "due is " + cards, Snapshot.dealer(house).equals(cards), true);
     }
 
     private static void handHas(ShoeHouse house, int seat, int hand, String cards) {
@@ -114,7 +63,7 @@ public final class RoundTest {
     }
 
     private static void rules() {
-        ShoeHouse house = staked(10, HIT_TO_21);
+        ShoeHouse house = Scene.staked(10, Cards.HIT_TO_21);
         for (char letter : new char[] {'d', 'u', 's', 'n'}) {
             Expect.same("at first", house.rule(letter, true), false);
             Expect.same("told", house.rule(letter, true), true);
@@ -178,7 +127,7 @@ public final class RoundTest {
         Expect.unsupported(house, "no shoe, no stake", house::deal);
         house.bet(1, 0, 5);
         Expect.unsupported(house, "no shoe", house::deal);
-        Scene.lay(house, 1, HIT_TO_21);
+        Scene.lay(house, 1, Cards.HIT_TO_21);
         Expect.same("the seen card", house.deal(), 10);
         Expect.state(house, "a round goes on", house::deal);
         handHas(house, 1, 0, "5 6 ");
@@ -242,7 +191,7 @@ public final class RoundTest {
     }
 
     private static void naturalPaid() {
-        ShoeHouse house = staked(11, SEAT_NATURAL);
+        ShoeHouse house = Scene.staked(11, Cards.SEAT_NATURAL);
         Expect.same("the seen card", house.deal(), 9);
         isOver(house);
         Expect.same("3 by 2, cut", house.chips(0), 1016);
@@ -253,11 +202,11 @@ public final class RoundTest {
         handHas(house, 0, 0, "1 10 ");
         Expect.same("the hidden card is seen", house.left(5), 3);
         house.bet(2, 0, 13);
-        Scene.lay(house, 1, SEAT_NATURAL);
+        Scene.lay(house, 1, Cards.SEAT_NATURAL);
         house.deal();
         Expect.same("broken in all", house.broken(), 10);
         house.bet(1, 0, 10);
-        Scene.lay(house, 1, SEAT_NATURAL);
+        Scene.lay(house, 1, Cards.SEAT_NATURAL);
         house.deal();
         Expect.same("nothing is broken", house.broken(), 10);
         Expect.same("16, 19, 15", house.chips(0), 1050);
@@ -268,7 +217,7 @@ public final class RoundTest {
         int[] paid = {12, 13, 14, 15, 16};
         int[] broken = {0, 2, 4, 6, 8};
         for (int i = 0; i < stakes.length; i++) {
-            ShoeHouse house = staked(stakes[i], SEAT_NATURAL);
+            ShoeHouse house = Scene.staked(stakes[i], Cards.SEAT_NATURAL);
             house.rule('n', true);
             house.fill(0, 10);
             house.deal();
@@ -281,7 +230,7 @@ public final class RoundTest {
     }
 
     private static void evenNatural() {
-        ShoeHouse house = staked(11, BOTH_NATURAL);
+        ShoeHouse house = Scene.staked(11, Cards.BOTH_NATURAL);
         Expect.same("the seen card", house.deal(), 1);
         Expect.same("the stake comes back", house.chips(0), 1000);
         Expect.same("nothing is broken", house.broken(), 0);
@@ -291,13 +240,13 @@ public final class RoundTest {
     }
 
     private static void dealersNatural() {
-        ShoeHouse house = staked(10, TEN_AND_ACE);
+        ShoeHouse house = Scene.staked(10, Cards.TEN_AND_ACE);
         Expect.same("the seen card", house.deal(), 10);
         Expect.same("lost", house.chips(0), 990);
         Expect.same("tray", house.tray(0), 10);
         dealerHas(house, "10 1 ");
         isOver(house);
-        ShoeHouse other = staked(10, ACE_AND_TEN);
+        ShoeHouse other = Scene.staked(10, Cards.ACE_AND_TEN);
         Expect.same("the seen card", other.deal(), 1);
         Expect.same("lost", other.chips(0), 990);
         dealerHas(other, "1 10 ");
@@ -305,7 +254,7 @@ public final class RoundTest {
     }
 
     private static void dealersNaturalAgainstTwo() {
-        ShoeHouse house = dealtToTwo("o 27 o o i i i o o o i 24");
+        ShoeHouse house = Scene.dealtToTwo("o 27 o o i i i o o o i 24");
         handHas(house, 0, 0, "10 5 ");
         handHas(house, 2, 0, "10 10 ");
         dealerHas(house, "1 10 ");
@@ -320,7 +269,7 @@ public final class RoundTest {
         Expect.index(house, "seat -1", () -> house.hit(-1));
         Expect.state(house, "no round", () -> house.hit(0));
         house.bet(1, 0, 20);
-        Scene.lay(house, 1, HIT_TO_21);
+        Scene.lay(house, 1, Cards.HIT_TO_21);
         house.deal();
         Expect.index(house, "seat 3", () -> house.hit(3));
         Expect.unsupported(house, "not the turn", () -> house.hit(0));
@@ -330,7 +279,7 @@ public final class RoundTest {
         dealerHas(house, "10 7 ");
         isOver(house);
         Expect.same("it stood at once and won", house.chips(0), 1020);
-        ShoeHouse soft = dealt(20, ACES);
+        ShoeHouse soft = Scene.dealt(20, Cards.ACES);
         Expect.same("soft 12 and 10", soft.hit(0), 12);
         Expect.same("22", soft.hit(0), 22);
         Expect.same("lost", soft.tray(0), 20);
@@ -338,13 +287,13 @@ public final class RoundTest {
     }
 
     private static void busting() {
-        ShoeHouse house = dealt(20, BUSTS);
+        ShoeHouse house = Scene.dealt(20, Cards.BUSTS);
         Expect.same("28", house.hit(0), 28);
         Expect.same("lost", house.chips(0), 980);
         Expect.same("tray", house.tray(0), 20);
         dealerHas(house, "6 10 ");
         isOver(house);
-        ShoeHouse two = dealtToTwo("i 48 i i");
+        ShoeHouse two = Scene.dealtToTwo("i 48 i i");
         Expect.same("15 and 8", two.hit(0), 23);
         Expect.same("lost at once", two.tray(0), 20);
         Expect.same("the next seat", two.turn(), 2);
@@ -355,11 +304,11 @@ public final class RoundTest {
     }
 
     private static void winning() {
-        ShoeHouse house = dealt(20, BUSTS);
+        ShoeHouse house = Scene.dealt(20, Cards.BUSTS);
         Expect.same("over", house.stand(0), -1);
         dealerHas(house, "6 10 10 ");
         Expect.same("the dealer is above 21", house.chips(0), 1020);
-        ShoeHouse soft = dealt(20, SOFT_ACE);
+        ShoeHouse soft = Scene.dealt(20, Cards.SOFT_ACE);
         soft.stand(0);
         dealerHas(soft, "1 6 ");
         Expect.same("18 against 17", soft.chips(0), 1020);
@@ -368,23 +317,23 @@ public final class RoundTest {
     }
 
     private static void softSeventeen() {
-        ShoeHouse house = dealt(20, SOFT_SIX);
+        ShoeHouse house = Scene.dealt(20, Cards.SOFT_SIX);
         house.stand(0);
         dealerHas(house, "6 1 ");
         Expect.same("17 and 17", house.chips(0), 1000);
-        ShoeHouse draws = staked(20, SOFT_SIX);
+        ShoeHouse draws = Scene.staked(20, Cards.SOFT_SIX);
         draws.rule('s', true);
         draws.deal();
         draws.stand(0);
         dealerHas(draws, "6 1 9 2 ");
         Expect.same("17 against 18", draws.chips(0), 980);
-        ShoeHouse softTwenty = staked(20, SOFT_ACE);
+        ShoeHouse softTwenty = Scene.staked(20, Cards.SOFT_ACE);
         softTwenty.rule('s', true);
         softTwenty.deal();
         softTwenty.stand(0);
         dealerHas(softTwenty, "1 6 3 ");
         Expect.same("18 against 20", softTwenty.chips(0), 980);
-        ShoeHouse hard = staked(20, HIT_TO_21);
+        ShoeHouse hard = Scene.staked(20, Cards.HIT_TO_21);
         hard.rule('s', true);
         hard.deal();
         hard.stand(0);
@@ -392,7 +341,7 @@ public final class RoundTest {
     }
 
     private static void evenHands() {
-        ShoeHouse house = dealt(20, EVEN_19);
+        ShoeHouse house = Scene.dealt(20, Cards.EVEN_19);
         Expect.same("over", house.stand(0), -1);
         Expect.same("19 and 19", house.chips(0), 1000);
         Expect.same("nothing moves", house.tray(0), 0);
@@ -406,7 +355,7 @@ public final class RoundTest {
         Expect.index(house, "seat -1", () -> house.stand(-1));
         Expect.state(house, "no round", () -> house.stand(0));
         Expect.state(house, "no round", house::turn);
-        ShoeHouse two = dealtToTwo("20 i i i");
+        ShoeHouse two = Scene.dealtToTwo("20 i i i");
         Expect.same("turn", two.turn(), 0);
         Expect.unsupported(two, "not the turn", () -> two.stand(2));
         Expect.unsupported(two, "no stake there", () -> two.stand(1));
@@ -414,11 +363,11 @@ public final class RoundTest {
         Expect.same("turn", two.turn(), 2);
         Expect.unsupported(two, "not any more", () -> two.stand(0));
         Expect.same("stand", two.stand(2), -1);
-        ShoeHouse natural = dealtToTwo("o o 11");
+        ShoeHouse natural = Scene.dealtToTwo("o o 11");
         Expect.same("a natural does not play", natural.stand(0), -1);
         Expect.same("it is paid, the other lost", natural.chips(1), 1030);
         Expect.same("lost", natural.chips(0), 980);
-        ShoeHouse first = dealtToTwo("i i");
+        ShoeHouse first = Scene.dealtToTwo("i i");
         Expect.same("the natural stood at once", first.turn(), 2);
         Expect.unsupported(first, "it does not play", () -> first.hit(0));
         first.stand(2);
@@ -428,24 +377,24 @@ public final class RoundTest {
     }
 
     private static void doubling() {
-        ShoeHouse house = dealt(20, DOUBLE_21);
+        ShoeHouse house = Scene.dealt(20, Cards.DOUBLE_21);
         Expect.same("21", house.twice(0), 21);
         Expect.same("staked", house.staked(0), 40);
         dealerHas(house, "6 10 10 ");
         Expect.same("both stakes win", house.chips(0), 1040);
         isOver(house);
-        ShoeHouse eighteen = dealt(20, DOUBLE_18);
+        ShoeHouse eighteen = Scene.dealt(20, Cards.DOUBLE_18);
         Expect.same("18", eighteen.twice(0), 18);
         dealerHas(eighteen, "8 9 ");
         Expect.same("it stands, and wins", eighteen.chips(0), 1040);
         isOver(eighteen);
-        ShoeHouse lost = dealt(20, BUSTS);
+        ShoeHouse lost = Scene.dealt(20, Cards.BUSTS);
         Expect.same("28", lost.twice(0), 28);
         Expect.same("both stakes are lost", lost.chips(0), 960);
         Expect.same("tray", lost.tray(0), 40);
         dealerHas(lost, "6 10 ");
         isOver(lost);
-        ShoeHouse two = dealtToTwo("20 i i i");
+        ShoeHouse two = Scene.dealtToTwo("20 i i i");
         two.twice(0);
         Expect.same("the next seat plays", two.turn(), 2);
     }
@@ -456,7 +405,7 @@ public final class RoundTest {
         Expect.index(house, "seat -1", () -> house.twice(-1));
         Expect.state(house, "no round", () -> house.twice(0));
         house.bet(0, 0, 16);
-        Scene.lay(house, 1, DOUBLE_18);
+        Scene.lay(house, 1, Cards.DOUBLE_18);
         house.deal();
         Expect.unsupported(house, "not the turn", () -> house.twice(1));
         Expect.unsupported(house, "14 chips are too few", () -> house.twice(0));
@@ -468,17 +417,17 @@ public final class RoundTest {
         ShoeHouse enough = Scene.withGuests(1, 32);
         enough.limit(0, 32);
         enough.bet(0, 0, 16);
-        Scene.lay(enough, 1, DOUBLE_18);
+        Scene.lay(enough, 1, Cards.DOUBLE_18);
         enough.deal();
         Expect.same("just enough", enough.twice(0), 18);
-        ShoeHouse three = dealt(20, ACES);
+        ShoeHouse three = Scene.dealt(20, Cards.ACES);
         three.hit(0);
         Expect.unsupported(three, "three cards", () -> three.twice(0));
         Expect.unsupported(three, "three cards", () -> three.split(0));
     }
 
     private static void splitting() {
-        ShoeHouse house = dealt(20, EIGHTS);
+        ShoeHouse house = Scene.dealt(20, Cards.EIGHTS);
         Expect.index(house, "not split yet", () -> house.cardAt(0, 1, 0));
         Expect.same("8 and 3", house.split(0), 11);
         handHas(house, 0, 0, "8 3 ");
@@ -497,7 +446,7 @@ public final class RoundTest {
         Expect.same("both win", house.chips(0), 1040);
         handHas(house, 0, 1, "8 9 ");
         isOver(house);
-        ShoeHouse lost = dealt(20, EIGHTS);
+        ShoeHouse lost = Scene.dealt(20, Cards.EIGHTS);
         lost.split(0);
         Expect.same("the second hand plays then", lost.stand(0), 0);
         Expect.same("17 and 10", lost.hit(0), 27);
@@ -507,7 +456,7 @@ public final class RoundTest {
     }
 
     private static void splittingByTheRule() {
-        ShoeHouse house = staked(20, EIGHTS);
+        ShoeHouse house = Scene.staked(20, Cards.EIGHTS);
         house.rule('d', true);
         house.rule('u', true);
         house.deal();
@@ -545,7 +494,7 @@ public final class RoundTest {
     }
 
     private static void splittingAces() {
-        ShoeHouse house = dealt(11, ACES);
+        ShoeHouse house = Scene.dealt(11, Cards.ACES);
         Expect.same("ace and 10", house.split(0), 21);
         handHas(house, 0, 0, "1 10 ");
         handHas(house, 0, 1, "1 10 ");
@@ -553,14 +502,14 @@ public final class RoundTest {
         Expect.same("paid once, they are no naturals", house.chips(0), 1022);
         Expect.same("nothing is broken", house.broken(), 0);
         isOver(house);
-        ShoeHouse one = dealt(11, ACES_AND_FIVE);
+        ShoeHouse one = Scene.dealt(11, Cards.ACES_AND_FIVE);
         Expect.same("ace and 10", one.split(0), 21);
         Expect.same("the second hand plays", one.turn(), 0);
         Expect.same("hard 16", one.hit(0), 16);
         Expect.same("21", one.hit(0), 21);
         dealerHas(one, "9 8 ");
         Expect.same("both win", one.chips(0), 1022);
-        ShoeHouse hit = dealt(11, ACES);
+        ShoeHouse hit = Scene.dealt(11, Cards.ACES);
         Expect.same("a pair may be hit", hit.hit(0), 12);
     }
 
@@ -570,7 +519,7 @@ public final class RoundTest {
         Expect.index(house, "seat -1", () -> house.split(-1));
         Expect.state(house, "no round", () -> house.split(0));
         house.bet(0, 0, 16);
-        Scene.lay(house, 1, EIGHTS);
+        Scene.lay(house, 1, Cards.EIGHTS);
         house.deal();
         Expect.unsupported(house, "not the turn", () -> house.split(1));
         Expect.unsupported(house, "14 chips are too few", () -> house.split(0));
@@ -580,10 +529,10 @@ public final class RoundTest {
         ShoeHouse enough = Scene.withGuests(1, 32);
         enough.limit(0, 32);
         enough.bet(0, 0, 16);
-        Scene.lay(enough, 1, EIGHTS);
+        Scene.lay(enough, 1, Cards.EIGHTS);
         enough.deal();
         Expect.same("just enough", enough.split(0), 11);
-        ShoeHouse unlike = dealt(20, BUSTS);
+        ShoeHouse unlike = Scene.dealt(20, Cards.BUSTS);
         Expect.unsupported(unlike, "10 and 8", () -> unlike.split(0));
     }
 
@@ -593,13 +542,13 @@ public final class RoundTest {
         Expect.index(house, "seat -1", () -> house.surrender(-1));
         Expect.state(house, "no round", () -> house.surrender(0));
         house.bet(1, 0, 11);
-        Scene.lay(house, 1, BUSTS);
+        Scene.lay(house, 1, Cards.BUSTS);
         house.deal();
         Expect.unsupported(house, "the rule does not hold", () -> house.surrender(1));
         house.stand(1);
         house.rule('u', true);
         house.bet(1, 0, 11);
-        Scene.lay(house, 1, BUSTS);
+        Scene.lay(house, 1, Cards.BUSTS);
         house.deal();
         Expect.unsupported(house, "not the turn", () -> house.surrender(0));
         Expect.same("half, cut", house.surrender(1), 5);
@@ -609,14 +558,14 @@ public final class RoundTest {
         dealerHas(house, "6 10 ");
         isOver(house);
         house.bet(0, 0, 20);
-        Scene.lay(house, 1, ACES);
+        Scene.lay(house, 1, Cards.ACES);
         house.deal();
         house.hit(0);
         Expect.unsupported(house, "three cards", () -> house.surrender(0));
     }
 
     private static void orderOfSettling() {
-        ShoeHouse lostFirst = dealtToTwo("i i 18 o");
+        ShoeHouse lostFirst = Scene.dealtToTwo("i i 18 o");
         handHas(lostFirst, 0, 0, "5 10 ");
         handHas(lostFirst, 2, 0, "10 10 ");
         Scene.standAll(lostFirst);
@@ -624,7 +573,7 @@ public final class RoundTest {
         Expect.same("the lost stake pays the other", lostFirst.vault(), 98000);
         Expect.same("tray", lostFirst.tray(0), 0);
         Expect.same("win", lostFirst.win(0), 0);
-        ShoeHouse wonFirst = dealtToTwo("i i i 33");
+        ShoeHouse wonFirst = Scene.dealtToTwo("i i i 33");
         handHas(wonFirst, 0, 0, "10 10 ");
         handHas(wonFirst, 2, 0, "3 5 ");
         Scene.standAll(wonFirst);
@@ -635,7 +584,7 @@ public final class RoundTest {
     }
 
     private static void barWhileTheHandPlays() {
-        ShoeHouse house = dealtToTwo("20 i i i");
+        ShoeHouse house = Scene.dealtToTwo("20 i i i");
         Expect.same("comes back", house.bar(0, 1), 20);
         Expect.same("chips", house.chips(0), 1000);
         Expect.same("the next seat plays", house.turn(), 2);
@@ -646,13 +595,13 @@ public final class RoundTest {
         Expect.same("nothing comes of it", house.chips(0), 1000);
         Expect.same("the other lost", house.chips(1), 980);
         isOver(house);
-        ShoeHouse last = dealtToTwo("20 i i i");
+        ShoeHouse last = Scene.dealtToTwo("20 i i i");
         last.stand(0);
         Expect.same("comes back", last.bar(1, 1), 20);
         dealerHas(last, "7 9 1 ");
         Expect.same("the one that stood wins", last.chips(0), 1020);
         isOver(last);
-        ShoeHouse only = dealt(20, BUSTS);
+        ShoeHouse only = Scene.dealt(20, Cards.BUSTS);
         Expect.same("comes back", only.bar(0, 1), 20);
         dealerHas(only, "6 10 ");
         hasNoHands(only, "taken away, the round is over by that", 0);
@@ -661,7 +610,7 @@ public final class RoundTest {
     }
 
     private static void barWhileAnotherPlays() {
-        ShoeHouse house = dealtToTwo("20 i i i");
+        ShoeHouse house = Scene.dealtToTwo("20 i i i");
         Expect.same("comes back", house.bar(1, 1), 20);
         Expect.same("the turn stays", house.turn(), 0);
         Expect.same("the cards were seen", house.left(2), 3);
@@ -670,7 +619,7 @@ public final class RoundTest {
         Expect.same("won", house.chips(0), 1020);
         Expect.same("came back", house.chips(1), 1000);
         isOver(house);
-        ShoeHouse stood = dealtToTwo("20 i i i");
+        ShoeHouse stood = Scene.dealtToTwo("20 i i i");
         stood.stand(0);
         Expect.same("a hand that stood is not settled", stood.bar(0, 1), 20);
         Expect.same("the turn stays", stood.turn(), 2);
@@ -680,13 +629,13 @@ public final class RoundTest {
     }
 
     private static void barOfSplitsAndLostHands() {
-        ShoeHouse house = dealt(20, EIGHTS);
+        ShoeHouse house = Scene.dealt(20, Cards.EIGHTS);
         house.split(0);
         Expect.same("both hands", house.bar(0, 1), 40);
         hasNoHands(house, "both are taken away", 0);
         dealerHas(house, "6 10 ");
         isOver(house);
-        ShoeHouse lost = dealtToTwo("i 48 i i");
+        ShoeHouse lost = Scene.dealtToTwo("i 48 i i");
         lost.hit(0);
         String lostCards = Snapshot.cards(lost, 0, 0);
         Expect.same("a lost hand is settled", lost.bar(0, 1), 0);
@@ -700,13 +649,13 @@ public final class RoundTest {
     }
 
     private static void barOfNaturals() {
-        ShoeHouse house = dealtToTwo("i i");
+        ShoeHouse house = Scene.dealtToTwo("i i");
         Expect.same("the natural was not settled", house.bar(0, 1), 20);
         hasNoHands(house, "the natural is taken away", 0);
         house.stand(2);
         Expect.same("nothing comes of it", house.chips(0), 1000);
         Expect.same("nothing is broken", house.broken(), 0);
-        ShoeHouse other = dealtToTwo("i i");
+        ShoeHouse other = Scene.dealtToTwo("i i");
         String natural = Snapshot.cards(other, 0, 0);
         other.bar(1, 1);
         hasNoHands(other, "taken away", 2);
@@ -814,42 +763,12 @@ public final class RoundTest {
         Expect.unsupported(house, "no seat has a stake", house::deal);
     }
 
-    /** Two decks with rounds of so many seats, all standing; the low cards are the last ones. */
-    private static ShoeHouse playedDown(int cut, String seats) {
-        return playedDown(cut, seats, "");
-    }
-
-    private static ShoeHouse playedDown(int cut, String seats, String recipe) {
-        ShoeHouse house = Scene.withGuests(1, 5000);
-        house.lay(2);
-        house.cut(cut);
-        for (int i = 0; i < seats.length(); i++) {
-            for (int seat = 0; seat < seats.charAt(i) - '0'; seat++) {
-                house.bet(seat, 0, 2);
-            }
-            house.deal();
-            Scene.standAll(house);
-        }
-        Scene.mix(house, recipe);
-        for (int seat = 0; seat < 3; seat++) {
-            house.bet(seat, 0, 2);
-        }
-        house.deal();
-        return house;
-    }
-
-    private static void hitAll(ShoeHouse house, int seat) {
-        for (int i = 0; i < 40 && house.turn() == seat; i++) {
-            house.hit(seat);
-        }
-    }
-
     private static void emptyShoe() {
-        ShoeHouse house = playedDown(39, "3333212331");
+        ShoeHouse house = Scene.playedDown(39, "3333212331");
         house.split(0);
-        hitAll(house, 0);
+        Scene.hitAll(house, 0);
         house.split(1);
-        hitAll(house, 1);
+        Scene.hitAll(house, 1);
         Expect.same("one card and the hidden one", Scene.cardsLeft(house), 2);
         Expect.same("a pair", house.cardAt(2, 0, 0), house.cardAt(2, 0, 1));
         Expect.unsupported(house, "a split takes two", () -> house.split(2));
@@ -878,11 +797,11 @@ public final class RoundTest {
     }
 
     private static void emptyShoeAndTwoCards() {
-        ShoeHouse house = playedDown(33, "22312312331");
+        ShoeHouse house = Scene.playedDown(33, "22312312331");
         house.split(0);
-        hitAll(house, 0);
+        Scene.hitAll(house, 0);
         house.split(1);
-        hitAll(house, 1);
+        Scene.hitAll(house, 1);
         Expect.same("seat 2 plays", house.turn(), 2);
         Expect.same("only the hidden one", Scene.cardsLeft(house), 1);
         Expect.none(house, "two cards", () -> house.cardAt(2, 0, 2));
@@ -893,11 +812,11 @@ public final class RoundTest {
     }
 
     private static void lastCards() {
-        ShoeHouse house = playedDown(39, "3333212331");
+        ShoeHouse house = Scene.playedDown(39, "3333212331");
         house.split(0);
-        hitAll(house, 0);
+        Scene.hitAll(house, 0);
         house.split(1);
-        hitAll(house, 1);
+        Scene.hitAll(house, 1);
         house.weigh(4, 1);
         int seen = house.count();
         Expect.same("8 of 4 but what is left", seen, 8 - house.left(4));
@@ -906,10 +825,10 @@ public final class RoundTest {
         Expect.same("and the dealer none", Scene.cardsLeft(house), 0);
         dealerHas(house, "2 3 ");
         isOver(house);
-        ShoeHouse two = playedDown(30, "13131331133", "o");
+        ShoeHouse two = Scene.playedDown(30, "13131331133", "o");
         two.split(0);
-        hitAll(two, 0);
-        hitAll(two, 1);
+        Scene.hitAll(two, 0);
+        Scene.hitAll(two, 1);
         Expect.same("two cards and the hidden one", Scene.cardsLeft(two), 3);
         two.split(2);
         Expect.same("a split takes both", Scene.cardsLeft(two), Scene.isOn(two) ? 1 : 0);
@@ -920,7 +839,7 @@ public final class RoundTest {
     }
 
     private static void dealerTakesTheLastCard() {
-        ShoeHouse house = playedDown(30, "11233113323", "5");
+        ShoeHouse house = Scene.playedDown(30, "11233113323", "5");
         for (int seat = 0; seat < 3; seat++) {
             for (int i = 0; i < 40 && Scene.isOn(house) && house.turn() == seat; i++) {
                 house.hit(seat);
@@ -960,7 +879,7 @@ public final class RoundTest {
         house.deal();
         Expect.same("over", house.stand(0), -1);
         int sum = 0;
-        for (String card : dealer(house).trim().split(" ")) {
+        for (String card : Snapshot.dealer(house).trim().split(" ")) {
             sum += Integer.parseInt(card);
         }
         Expect.same("22", sum, 22);
@@ -969,7 +888,7 @@ public final class RoundTest {
     }
 
     private static void layForgets() {
-        ShoeHouse house = dealt(20, EIGHTS);
+        ShoeHouse house = Scene.dealt(20, Cards.EIGHTS);
         Expect.state(house, "a round goes on", () -> house.lay(1));
         Expect.state(house, "a round goes on", () -> house.cut(1));
         Expect.state(house, "a round goes on", () -> house.riffle(true));
@@ -1009,7 +928,7 @@ public final class RoundTest {
         }
         house.guest(1000);
         house.buyIn(0, 1000);
-        Scene.lay(house, 1, EIGHTS);
+        Scene.lay(house, 1, Cards.EIGHTS);
         hasNoHands(house, "no round yet", 1);
         house.bet(1, 0, 20);
         hasNoHands(house, "a stake ahead of the deal", 1);

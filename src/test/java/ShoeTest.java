@@ -77,7 +77,7 @@ public final class ShoeTest {
     }
 
     /** The order in the shoe is seen by cutting card by card. */
-    private static List<Integer> order(ShoeHouse house, int size) {
+    static List<Integer> order(ShoeHouse house, int size) {
         List<Integer> ranks = new ArrayList<>();
         for (int i = 0; i < size; i++) {
             ranks.add(house.cut(1));
@@ -86,7 +86,7 @@ public final class ShoeTest {
         return ranks;
     }
 
-    private static List<Integer> laid(int decks) {
+    static List<Integer> laid(int decks) {
         List<Integer> ranks = new ArrayList<>();
         for (int i = 0; i < 52 * decks; i++) {
             ranks.add(Math.min(10, 1 + i / (4 * decks)));
@@ -94,13 +94,13 @@ public final class ShoeTest {
         return ranks;
     }
 
-    private static List<Integer> cutBy(List<Integer> ranks, int cards) {
+    static List<Integer> cutBy(List<Integer> ranks, int cards) {
         List<Integer> all = new ArrayList<>(ranks.subList(cards, ranks.size()));
         all.addAll(ranks.subList(0, cards));
         return all;
     }
 
-    private static List<Integer> riffledBy(List<Integer> ranks, boolean isOut) {
+    static List<Integer> riffledBy(List<Integer> ranks, boolean isOut) {
         int first = isOut ? (ranks.size() + 1) / 2 : ranks.size() / 2;
         List<Integer> one = new ArrayList<>(ranks.subList(0, first));
         List<Integer> other = new ArrayList<>(ranks.subList(first, ranks.size()));
@@ -283,11 +283,11 @@ public final class ShoeTest {
     }
 
     /** Brings the true count to just 2: 8 8 9 9 were seen of a deck. */
-    private static void tellHigh(ShoeHouse house) {
+    static void tellHigh(ShoeHouse house) {
         house.weigh(8, 1);
     }
 
-    private static ShoeHouse watched() {
+    static ShoeHouse watched() {
         ShoeHouse house = Scene.withGuests(2, 4000);
         house.lay(1);
         house.cut(30);
@@ -297,7 +297,7 @@ public final class ShoeTest {
         return house;
     }
 
-    private static void betAtSeat(ShoeHouse house, int guest, int chips) {
+    static void betAtSeat(ShoeHouse house, int guest, int chips) {
         house.bet(2, guest, chips);
         house.lay(1);
         house.cut(30);

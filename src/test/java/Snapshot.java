@@ -37,12 +37,21 @@ final class Snapshot {
     }
 
     private static void addCards(StringBuilder text, ShoeHouse house) {
-        text.append(" dealer");
-        for (int place = 0; place < 12; place++) {
+        text.append(" dealer ").append(dealer(house)).append(hands(house));
+    }
+
+    /** The ranks of the dealer's cards that are seen, a space behind each. */
+    static String dealer(ShoeHouse house) {
+        StringBuilder text = new StringBuilder();
+        for (int place = 0; place < 23; place++) {
             int at = place;
-            text.append(' ').append(answer(() -> house.dealerAt(at)));
+            Object rank = answer(() -> house.dealerAt(at));
+            if (!(rank instanceof Integer)) {
+                break;
+            }
+            text.append(rank).append(' ');
         }
-        text.append(hands(house));
+        return text.toString();
     }
 
     /** The cards of all hands. */
