@@ -1,5 +1,4 @@
 import java.util.List;
-import java.util.function.Consumer;
 import java.util.function.Supplier;
 
 /** The sentences of the terms about the shoe, rounds, odds and counts. */
@@ -27,12 +26,6 @@ final class CardTerms {
         chances();
         counts();
         suspicions();
-    }
-
-    private static ShoeHouse after(Supplier<ShoeHouse> setting, Consumer<ShoeHouse> call) {
-        ShoeHouse house = setting.get();
-        call.accept(house);
-        return house;
     }
 
     private static ShoeHouse laid(int decks) {
@@ -63,13 +56,13 @@ final class CardTerms {
         }
         Refusal.argument("nothing to cut", ShoeHouse::new, h -> h.cut(1));
         Refusal.unsupported("nothing to riffle", ShoeHouse::new, h -> h.riffle(true));
-        Refusal.unsupported("nothing to deal", () -> after(() -> Scene.withGuests(1, 9), h -> h.bet(0, 0, 2)), ShoeHouse::deal);
+        Refusal.unsupported("nothing to deal", () -> Scene.after(() -> Scene.withGuests(1, 9), h -> h.bet(0, 0, 2)), ShoeHouse::deal);
     }
 
     private static void cutsAndRiffles() {
         Doc.term("It can be laid, cut and riffled between rounds;");
         Supplier<ShoeHouse> round = () -> Scene.dealt(20, Cards.BUSTS);
-        Supplier<ShoeHouse> over = () -> after(round, h -> h.stand(0));
+        Supplier<ShoeHouse> over = () -> Scene.after(round, h -> h.stand(0));
         Refusal.state("lay", round, h -> h.lay(1));
         Refusal.state("cut", round, h -> h.cut(1));
         Refusal.state("riffle", round, h -> h.riffle(true));
@@ -288,15 +281,15 @@ final class CardTerms {
         Expect.same("staked", house.staked(0), 40);
         Expect.same("chips", house.chips(0), 960);
         Refusal.unsupported("10 and 8", () -> Scene.dealt(20, Cards.BUSTS), h -> h.split(0));
-        Refusal.unsupported("three cards", () -> after(() -> Scene.dealt(20, Cards.ACES), h -> h.hit(0)), h -> h.split(0));
-        Supplier<ShoeHouse> tens = () -> after(() -> laid(1), h -> {
+        Refusal.unsupported("three cards", () -> Scene.after(() -> Scene.dealt(20, Cards.ACES), h -> h.hit(0)), h -> h.split(0));
+        Supplier<ShoeHouse> tens = () -> Scene.after(() -> laid(1), h -> {
             h.cut(36);
             h.bet(0, 0, 20);
             h.deal();
             h.split(0);
         });
         Refusal.unsupported("the first hand again", tens, h -> h.split(0));
-        Refusal.unsupported("the second hand", () -> after(tens, h -> h.stand(0)), h -> h.split(0));
+        Refusal.unsupported("the second hand", () -> Scene.after(tens, h -> h.stand(0)), h -> h.split(0));
         Doc.term("both get a second card, and play one behind the other;");
         Expect.same("the first one", Snapshot.cards(house, 0, 0), "8 3 ");
         Expect.same("the second one", Snapshot.cards(house, 0, 1), "8 9 ");
@@ -323,7 +316,7 @@ final class CardTerms {
         ShoeHouse lost = Scene.dealt(20, Cards.BUSTS);
         lost.twice(0);
         Expect.same("40 lost", lost.tray(0), 40);
-        Refusal.unsupported("three cards", () -> after(() -> Scene.dealt(20, Cards.ACES), h -> h.hit(0)), h -> h.twice(0));
+        Refusal.unsupported("three cards", () -> Scene.after(() -> Scene.dealt(20, Cards.ACES), h -> h.hit(0)), h -> h.twice(0));
         Doc.term("it gets one card and stands;");
         Expect.same("one card", Snapshot.cards(house, 0, 0), "9 2 7 ");
         Expect.state(house, "it stands", house::turn);
@@ -332,9 +325,9 @@ final class CardTerms {
         Expect.same("the next one plays", soft.turn(), 2);
         Expect.none(soft, "no fourth card", () -> soft.cardAt(0, 0, 3));
         Doc.term("a hand of a split by the rule 'd' alone.");
-        Supplier<ShoeHouse> split = () -> after(() -> Scene.dealt(20, Cards.EIGHTS), h -> h.split(0));
+        Supplier<ShoeHouse> split = () -> Scene.after(() -> Scene.dealt(20, Cards.EIGHTS), h -> h.split(0));
         Refusal.unsupported("no rule", split, h -> h.twice(0));
-        Refusal.unsupported("no rule, the second hand", () -> after(split, h -> h.stand(0)), h -> h.twice(0));
+        Refusal.unsupported("no rule, the second hand", () -> Scene.after(split, h -> h.stand(0)), h -> h.twice(0));
         ShoeHouse ruled = Scene.staked(20, Cards.EIGHTS);
         ruled.rule('d', true);
         ruled.deal();
@@ -343,7 +336,7 @@ final class CardTerms {
         Expect.same("the second hand", ruled.twice(0), 26);
         Expect.same("80 staked", ruled.staked(0), 80);
         for (char other : "usn".toCharArray()) {
-            Refusal.unsupported("another rule", () -> after(() -> Scene.staked(20, Cards.EIGHTS), h -> {
+            Refusal.unsupported("another rule", () -> Scene.after(() -> Scene.staked(20, Cards.EIGHTS), h -> {
                 h.rule(other, true);
                 h.deal();
                 h.split(0);
@@ -353,14 +346,14 @@ final class CardTerms {
 
     private static void surrenders() {
         Doc.term("With two cards of no split a hand can be surrendered by the rule 'u':");
-        Supplier<ShoeHouse> ruled = () -> after(() -> Scene.staked(20, Cards.EIGHTS), h -> {
+        Supplier<ShoeHouse> ruled = () -> Scene.after(() -> Scene.staked(20, Cards.EIGHTS), h -> {
             h.rule('u', true);
             h.deal();
         });
         Refusal.taken("two cards", ruled, h -> h.surrender(0));
-        Refusal.unsupported("a split", () -> after(ruled, h -> h.split(0)), h -> h.surrender(0));
+        Refusal.unsupported("a split", () -> Scene.after(ruled, h -> h.split(0)), h -> h.surrender(0));
         Refusal.unsupported("no rule", () -> Scene.dealt(20, Cards.EIGHTS), h -> h.surrender(0));
-        Refusal.unsupported("three cards", () -> after(() -> Scene.staked(20, Cards.ACES), h -> {
+        Refusal.unsupported("three cards", () -> Scene.after(() -> Scene.staked(20, Cards.ACES), h -> {
             h.rule('u', true);
             h.deal();
             h.hit(0);
@@ -403,19 +396,19 @@ final class CardTerms {
         ShoeHouse lost = Scene.dealt(20, Cards.BUSTS);
         lost.hit(0);
         Expect.same("no hand is left", Snapshot.dealer(lost), "6 10 ");
-        ShoeHouse given = after(() -> Scene.staked(20, Cards.BUSTS), h -> {
+        ShoeHouse given = Scene.after(() -> Scene.staked(20, Cards.BUSTS), h -> {
             h.rule('u', true);
             h.deal();
             h.surrender(0);
         });
         Expect.same("it was surrendered", Snapshot.dealer(given), "6 10 ");
-        ShoeHouse barred = after(() -> Scene.dealt(20, Cards.BUSTS), h -> h.bar(0, 1));
+        ShoeHouse barred = Scene.after(() -> Scene.dealt(20, Cards.BUSTS), h -> h.bar(0, 1));
         Expect.same("it was taken away", Snapshot.dealer(barred), "6 10 ");
         Expect.same("a natural alone", Snapshot.dealer(Scene.dealt(20, Cards.SEAT_NATURAL)), "9 5 ");
         ShoeHouse other = Scene.dealtToTwo(Cards.NATURAL_AND_19_AGAINST_21);
         other.stand(2);
         Expect.same("a natural and another hand", Snapshot.dealer(other), "6 5 10 ");
-        ShoeHouse split = after(() -> Scene.dealt(20, Cards.ACES_AGAINST_21), h -> h.split(0));
+        ShoeHouse split = Scene.after(() -> Scene.dealt(20, Cards.ACES_AGAINST_21), h -> h.split(0));
         Expect.same("the 21 of a split is no natural", Snapshot.dealer(split), "6 5 10 ");
         ShoeHouse shown = Scene.dealt(20, Cards.HIT_TO_21);
         Expect.none(shown, "hidden while a hand plays", () -> shown.dealerAt(1));
@@ -423,8 +416,8 @@ final class CardTerms {
         shown.hit(0);
         Expect.same("shown", shown.dealerAt(1), 7);
         Expect.same("it is seen", shown.left(7), 3);
-        Expect.same("no card in the shoe", Snapshot.dealer(after(Scene::withoutCards, h -> h.stand(2))), "2 3 ");
-        ShoeHouse last = after(Scene::withLastCard, h -> h.stand(2));
+        Expect.same("no card in the shoe", Snapshot.dealer(Scene.after(Scene::withoutCards, h -> h.stand(2))), "2 3 ");
+        ShoeHouse last = Scene.after(Scene::withLastCard, h -> h.stand(2));
         Expect.none(last, "the last card alone", () -> last.dealerAt(3));
         Expect.same("the last card", last.dealerAt(2) > 0, true);
     }

@@ -1,4 +1,3 @@
-import java.util.function.Consumer;
 import java.util.function.Supplier;
 
 /** The sentences of the terms about chips and money, shifts and exceptions, and the examples. */
@@ -23,12 +22,6 @@ final class ChipTerms {
         reported();
         shifts();
         refusals();
-    }
-
-    private static ShoeHouse after(Supplier<ShoeHouse> setting, Consumer<ShoeHouse> call) {
-        ShoeHouse house = setting.get();
-        call.accept(house);
-        return house;
     }
 
     private static void examples() {
@@ -280,7 +273,7 @@ final class ChipTerms {
         Expect.unsupported(house, "the last one told", () -> house.wager(0, 'r', 0, 51));
         Expect.same("the last one told", house.wager(0, 'r', 0, 50), 4);
         Expect.same("and it stays", Scene.later(house, 3).wager(0, 'r', 0, 50), 5);
-        ShoeHouse below = after(TWO, h -> h.bet(0, 0, 50));
+        ShoeHouse below = Scene.after(TWO, h -> h.bet(0, 0, 50));
         below.limit(0, 20);
         Expect.unsupported(below, "what was staked is above it", () -> below.wager(0, 'r', 0, 1));
         Scene.lay(below, 1, Cards.BUSTS);
@@ -378,15 +371,15 @@ final class ChipTerms {
             Expect.same("there is place again", wagers.wager(0, 'n', 8, 1), 6 + i);
         }
         Expect.same("those of the other stay", wagers.spin(8), 360 + 5 * 36);
-        ShoeHouse spin = after(TWO, h -> h.pull(0, 10));
+        ShoeHouse spin = Scene.after(TWO, h -> h.pull(0, 10));
         Expect.same("a spin", spin.bar(0, 1), 10);
         Expect.same("the machine is free", spin.pull(1, 10), 990);
-        ShoeHouse tilted = after(TWO, h -> h.pull(0, 10));
+        ShoeHouse tilted = Scene.after(TWO, h -> h.pull(0, 10));
         tilted.tilt();
         Expect.same("a tilted one", tilted.bar(0, 1), 10);
         Expect.state(tilted, "not twice", tilted::recover);
         Expect.same("the machine is free", tilted.pull(1, 10), 990);
-        ShoeHouse others = after(TWO, h -> h.pull(0, 10));
+        ShoeHouse others = Scene.after(TWO, h -> h.pull(0, 10));
         Expect.same("another guest's spin", others.bar(1, 1), 0);
         Expect.same("it goes on", others.tilt(), 10);
     }
@@ -585,7 +578,7 @@ final class ChipTerms {
         }
         refusedBetsAreNotWatched();
         Doc.term("If several exceptions apply, the one that is documented first is thrown.");
-        ShoeHouse full = after(ChipTerms::busy, h -> h.guest(0));
+        ShoeHouse full = Scene.after(ChipTerms::busy, h -> h.guest(0));
         for (int i = 0; i < 8; i++) {
             full.wager(0, 'r', 0, 1);
         }

@@ -1,6 +1,5 @@
 import java.lang.reflect.Field;
 import java.math.BigInteger;
-import java.util.function.Consumer;
 import java.util.function.Supplier;
 
 /** The sentences of the promises 52 to 66: what is asked, and figures. */
@@ -29,12 +28,6 @@ final class FigureSentences {
         barredShare();
         meanChips();
         isSound();
-    }
-
-    private static ShoeHouse after(Supplier<ShoeHouse> setting, Consumer<ShoeHouse> call) {
-        ShoeHouse house = setting.get();
-        call.accept(house);
-        return house;
     }
 
     private static void day() {
@@ -132,7 +125,7 @@ final class FigureSentences {
         ShoeHouse twice = Scene.dealt(20, Cards.DOUBLE_18);
         twice.twice(0);
         Expect.same("a double", twice.staked(0), 40);
-        ShoeHouse barred = after(THREE, h -> h.wager(0, 'r', 0, 5));
+        ShoeHouse barred = Scene.after(THREE, h -> h.wager(0, 'r', 0, 5));
         barred.bar(0, 1);
         Expect.same("what a bar brought back", barred.staked(0), 5);
     }

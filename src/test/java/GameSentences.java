@@ -13,9 +13,9 @@ final class GameSentences {
     private static final int[] NOT_UNLIKE = {0, 1, 10, 11, 100, 101, 110, 112, 121, 211, 222, 988, 998, 989, 999};
     private static final int[] MORE = {1000, 1023, 1234, 9876, 10012, Integer.MAX_VALUE, -1, -12, -123, Integer.MIN_VALUE};
     private static final Supplier<ShoeHouse> THREE = () -> Scene.withGuests(3, 1000);
-    private static final Supplier<ShoeHouse> SPIN = () -> after(THREE, h -> h.pull(0, 10));
-    private static final Supplier<ShoeHouse> TILTED = () -> after(SPIN, ShoeHouse::tilt);
-    private static final Supplier<ShoeHouse> STOPPED = () -> after(SPIN, h -> h.stop(0));
+    private static final Supplier<ShoeHouse> SPIN = () -> Scene.after(THREE, h -> h.pull(0, 10));
+    private static final Supplier<ShoeHouse> TILTED = () -> Scene.after(SPIN, ShoeHouse::tilt);
+    private static final Supplier<ShoeHouse> STOPPED = () -> Scene.after(SPIN, h -> h.stop(0));
 
     private GameSentences() {
     }
@@ -43,29 +43,23 @@ final class GameSentences {
         pool();
     }
 
-    private static ShoeHouse after(Supplier<ShoeHouse> setting, Consumer<ShoeHouse> call) {
-        ShoeHouse house = setting.get();
-        call.accept(house);
-        return house;
-    }
-
     /** What holds for each stake of so many chips: who is barred, lacks chips, or would stake above the limit. */
     private static void stakeRefused(int promise, int chips, Consumer<ShoeHouse> stake) {
         Doc.says(promise, MAY_NOT_STAKE);
-        Supplier<ShoeHouse> barred = () -> after(THREE, h -> h.bar(0, 2));
+        Supplier<ShoeHouse> barred = () -> Scene.after(THREE, h -> h.bar(0, 2));
         Refusal.unsupported("barred", barred, stake);
         Refusal.unsupported("the day before", () -> Scene.later(barred.get(), 1), stake);
         Refusal.taken("that day", () -> Scene.later(barred.get(), 2), stake);
-        Refusal.taken("another one is barred", () -> after(THREE, h -> h.bar(1, 2)), stake);
+        Refusal.taken("another one is barred", () -> Scene.after(THREE, h -> h.bar(1, 2)), stake);
         Refusal.taken("all chips", () -> Scene.withGuests(1, chips), stake);
         Refusal.unsupported("a chip less", () -> Scene.withGuests(2, chips - 1), stake);
         Refusal.unsupported("no chips", () -> Scene.withGuests(1, 0), stake);
-        Refusal.taken("the limit", () -> after(THREE, h -> h.limit(0, chips)), stake);
-        Refusal.unsupported("a lower limit", () -> after(THREE, h -> h.limit(0, chips - 1)), stake);
-        Refusal.unsupported("the lowest limit", () -> after(THREE, h -> h.limit(0, 0)), stake);
-        Supplier<ShoeHouse> staked = () -> after(THREE, h -> h.bet(2, 0, 20));
-        Refusal.taken("the limit with the bet", () -> after(staked, h -> h.limit(0, chips + 20)), stake);
-        Refusal.unsupported("above it with the bet", () -> after(staked, h -> h.limit(0, chips + 19)), stake);
+        Refusal.taken("the limit", () -> Scene.after(THREE, h -> h.limit(0, chips)), stake);
+        Refusal.unsupported("a lower limit", () -> Scene.after(THREE, h -> h.limit(0, chips - 1)), stake);
+        Refusal.unsupported("the lowest limit", () -> Scene.after(THREE, h -> h.limit(0, 0)), stake);
+        Supplier<ShoeHouse> staked = () -> Scene.after(THREE, h -> h.bet(2, 0, 20));
+        Refusal.taken("the limit with the bet", () -> Scene.after(staked, h -> h.limit(0, chips + 20)), stake);
+        Refusal.unsupported("above it with the bet", () -> Scene.after(staked, h -> h.limit(0, chips + 19)), stake);
     }
 
     private static ShoeHouse withWagers(int wagers) {
@@ -97,8 +91,8 @@ final class GameSentences {
         Refusal.arguments(THREE, 0, 36, (h, number) -> h.wager(0, 'n', number, 1));
         Refusal.arguments(THREE, 0, 2, (h, number) -> h.wager(0, 'd', number, 1));
         for (int number : new int[] {Integer.MIN_VALUE, -1, 3, 37, Integer.MAX_VALUE}) {
-            Expect.same("red", after(THREE, h -> h.wager(0, 'r', number, 1)).spin(1), 2);
-            Expect.same("black", after(THREE, h -> h.wager(0, 'b', number, 1)).spin(2), 2);
+            Expect.same("red", Scene.after(THREE, h -> h.wager(0, 'r', number, 1)).spin(1), 2);
+            Expect.same("black", Scene.after(THREE, h -> h.wager(0, 'b', number, 1)).spin(2), 2);
         }
         Doc.says(35, "- `chips`: 1 to 500");
         Refusal.arguments(THREE, 1, 500, (h, chips) -> h.wager(0, 'r', 0, chips));
@@ -128,8 +122,8 @@ final class GameSentences {
         Doc.says(35, "Throws `IllegalStateException` if there are 10");
         Refusal.taken("the tenth", () -> withWagers(9), h -> h.wager(0, 'r', 0, 1));
         Refusal.state("the eleventh", () -> withWagers(10), h -> h.wager(0, 'r', 0, 1));
-        Refusal.taken("they were settled", () -> after(() -> withWagers(10), h -> h.spin(0)), h -> h.wager(0, 'r', 0, 1));
-        Refusal.taken("some came back", () -> after(() -> withWagers(10), h -> h.bar(1, 1)), h -> h.wager(0, 'r', 0, 1));
+        Refusal.taken("they were settled", () -> Scene.after(() -> withWagers(10), h -> h.spin(0)), h -> h.wager(0, 'r', 0, 1));
+        Refusal.taken("some came back", () -> Scene.after(() -> withWagers(10), h -> h.bar(1, 1)), h -> h.wager(0, 'r', 0, 1));
         Supplier<ShoeHouse> ten = () -> withWagers(10);
         Doc.order(35, Doc.INDEX, Doc.ARGUMENT);
         Refusal.index("no guest, no kind", THREE, h -> h.wager(3, 'x', 0, 1));
@@ -139,16 +133,16 @@ final class GameSentences {
         Doc.order(35, Doc.INDEX, Doc.STATE);
         Refusal.index("no guest, 10 wagers", ten, h -> h.wager(3, 'r', 0, 1));
         Doc.order(35, Doc.ARGUMENT, Doc.UNSUPPORTED);
-        Refusal.argument("barred, no kind", () -> after(THREE, h -> h.bar(0, 1)), h -> h.wager(0, 'x', 0, 1));
+        Refusal.argument("barred, no kind", () -> Scene.after(THREE, h -> h.bar(0, 1)), h -> h.wager(0, 'x', 0, 1));
         Refusal.argument("501 of 9 chips", () -> Scene.withGuests(1, 9), h -> h.wager(0, 'r', 0, 501));
         Doc.order(35, Doc.ARGUMENT, Doc.STATE);
         Refusal.argument("10 wagers, dozen 3", ten, h -> h.wager(0, 'd', 3, 1));
         Refusal.argument("10 wagers, 0 chips", ten, h -> h.wager(0, 'r', 0, 0));
         Doc.order(35, Doc.UNSUPPORTED, Doc.STATE);
-        Refusal.unsupported("10 wagers, barred", () -> after(() -> after(ten, h -> h.guest(9)), h -> h.bar(3, 1)),
+        Refusal.unsupported("10 wagers, barred", () -> Scene.after(() -> Scene.after(ten, h -> h.guest(9)), h -> h.bar(3, 1)),
             h -> h.wager(3, 'r', 0, 1));
-        Refusal.unsupported("10 wagers, no chips", () -> after(ten, h -> h.cashOut(0, 975)), h -> h.wager(0, 'r', 0, 1));
-        Refusal.unsupported("10 wagers, the limit", () -> after(ten, h -> h.limit(0, 25)), h -> h.wager(0, 'r', 0, 1));
+        Refusal.unsupported("10 wagers, no chips", () -> Scene.after(ten, h -> h.cashOut(0, 975)), h -> h.wager(0, 'r', 0, 1));
+        Refusal.unsupported("10 wagers, the limit", () -> Scene.after(ten, h -> h.limit(0, 25)), h -> h.wager(0, 'r', 0, 1));
     }
 
     private static void spin() {
@@ -278,7 +272,7 @@ final class GameSentences {
 
     private static void bound() {
         Doc.says(39, "Tells the bound of the pot.");
-        ShoeHouse house = after(STOPPED, h -> h.bound(1));
+        ShoeHouse house = Scene.after(STOPPED, h -> h.bound(1));
         house.pull(1, 9);
         Expect.same("the pot of 1 is hit", house.stop(0), 1);
         Doc.says(39, "- `chips`: 1 to 5000");
@@ -334,9 +328,9 @@ final class GameSentences {
         Refusal.state("tilted, another guest", TILTED, h -> h.pull(1, 1));
         Refusal.state("tilted, days later", () -> Scene.later(TILTED.get(), 9), h -> h.pull(1, 1));
         Refusal.taken("stopped", STOPPED, h -> h.pull(1, 1));
-        Refusal.taken("recovered", () -> after(TILTED, ShoeHouse::recover), h -> h.pull(0, 1));
-        Refusal.taken("taken away", () -> after(SPIN, h -> h.bar(0, 1)), h -> h.pull(1, 1));
-        Refusal.taken("tilted, taken away", () -> after(TILTED, h -> h.bar(0, 1)), h -> h.pull(1, 1));
+        Refusal.taken("recovered", () -> Scene.after(TILTED, ShoeHouse::recover), h -> h.pull(0, 1));
+        Refusal.taken("taken away", () -> Scene.after(SPIN, h -> h.bar(0, 1)), h -> h.pull(1, 1));
+        Refusal.taken("tilted, taken away", () -> Scene.after(TILTED, h -> h.bar(0, 1)), h -> h.pull(1, 1));
         Doc.order(40, Doc.INDEX, Doc.ARGUMENT);
         Refusal.index("no guest, 0", THREE, h -> h.pull(3, 0));
         Doc.order(40, Doc.INDEX, Doc.UNSUPPORTED);
@@ -345,14 +339,14 @@ final class GameSentences {
         Refusal.index("a spin, no guest", SPIN, h -> h.pull(3, 1));
         Doc.order(40, Doc.ARGUMENT, Doc.UNSUPPORTED);
         Refusal.argument("101 of 9", () -> Scene.withGuests(1, 9), h -> h.pull(0, 101));
-        Refusal.argument("barred, 0", () -> after(THREE, h -> h.bar(0, 1)), h -> h.pull(0, 0));
+        Refusal.argument("barred, 0", () -> Scene.after(THREE, h -> h.bar(0, 1)), h -> h.pull(0, 0));
         Doc.order(40, Doc.ARGUMENT, Doc.STATE);
         Refusal.argument("a spin, 0", SPIN, h -> h.pull(0, 0));
         Refusal.argument("tilted, 101", TILTED, h -> h.pull(0, 101));
         Doc.order(40, Doc.UNSUPPORTED, Doc.STATE);
-        Refusal.unsupported("a spin, barred", () -> after(SPIN, h -> h.bar(1, 1)), h -> h.pull(1, 1));
-        Refusal.unsupported("tilted, no chips", () -> after(TILTED, h -> h.cashOut(0, 990)), h -> h.pull(0, 1));
-        Refusal.unsupported("a spin, the limit", () -> after(SPIN, h -> h.limit(0, 10)), h -> h.pull(0, 1));
+        Refusal.unsupported("a spin, barred", () -> Scene.after(SPIN, h -> h.bar(1, 1)), h -> h.pull(1, 1));
+        Refusal.unsupported("tilted, no chips", () -> Scene.after(TILTED, h -> h.cashOut(0, 990)), h -> h.pull(0, 1));
+        Refusal.unsupported("a spin, the limit", () -> Scene.after(SPIN, h -> h.limit(0, 10)), h -> h.pull(0, 1));
     }
 
     private static void stop() {
@@ -369,7 +363,7 @@ final class GameSentences {
         for (int wrong : new int[] {8, 9, 80, 90, 800, 900, 778, 787, 877, 999}) {
             Refusal.argument("an 8 or 9 in " + wrong, SPIN, h -> h.stop(wrong));
         }
-        Supplier<ShoeHouse> reels = () -> after(THREE, h -> {
+        Supplier<ShoeHouse> reels = () -> Scene.after(THREE, h -> {
             h.stops(0, 10000000);
             h.stops(1, 1000000);
             h.stops(2, 1);
@@ -395,7 +389,7 @@ final class GameSentences {
         Refusal.state("no spin", THREE, h -> h.stop(0));
         Refusal.state("stopped", STOPPED, h -> h.stop(0));
         Refusal.state("tilted", TILTED, h -> h.stop(0));
-        Refusal.state("taken away", () -> after(SPIN, h -> h.bar(0, 1)), h -> h.stop(0));
+        Refusal.state("taken away", () -> Scene.after(SPIN, h -> h.bar(0, 1)), h -> h.stop(0));
         Doc.order(41, Doc.ARGUMENT, Doc.STATE);
         Refusal.argument("no spin, 8", THREE, h -> h.stop(8));
         Refusal.argument("tilted, 1000", TILTED, h -> h.stop(1000));
@@ -408,32 +402,32 @@ final class GameSentences {
         Expect.same("it can be recovered", house.recover(), 1000);
         Doc.says(42, "Returns the stake of the spin.");
         for (int stake : new int[] {1, 9, 100}) {
-            Expect.same("stake", after(THREE, h -> h.pull(1, stake)).tilt(), stake);
+            Expect.same("stake", Scene.after(THREE, h -> h.pull(1, stake)).tilt(), stake);
         }
         Doc.says(42, "Throws `IllegalStateException` if no spin goes on");
         Refusal.state("no spin", THREE, ShoeHouse::tilt);
         Refusal.state("stopped", STOPPED, ShoeHouse::tilt);
         Refusal.state("tilted already", TILTED, ShoeHouse::tilt);
-        Refusal.state("recovered", () -> after(TILTED, ShoeHouse::recover), ShoeHouse::tilt);
-        Refusal.state("taken away", () -> after(SPIN, h -> h.bar(0, 1)), ShoeHouse::tilt);
+        Refusal.state("recovered", () -> Scene.after(TILTED, ShoeHouse::recover), ShoeHouse::tilt);
+        Refusal.state("taken away", () -> Scene.after(SPIN, h -> h.bar(0, 1)), ShoeHouse::tilt);
     }
 
     private static void recover() {
         Doc.says(43, "Recovers a spin that was tilted.");
-        ShoeHouse house = after(TILTED, ShoeHouse::recover);
+        ShoeHouse house = Scene.after(TILTED, ShoeHouse::recover);
         Expect.same("chips", house.chips(0), 1000);
         Expect.same("nothing in the pot or tray", house.pot() + house.tray(2), 0);
         Expect.same("the machine is free", house.pull(1, 5), 995);
         Doc.says(43, "Returns the chips of the guest then.");
         Expect.same("all", TILTED.get().recover(), 1000);
         Expect.same("days later", Scene.later(TILTED.get(), 40).recover(), 1000);
-        Expect.same("of the one who pulled", after(TILTED, h -> h.cashOut(0, 90)).recover(), 910);
+        Expect.same("of the one who pulled", Scene.after(TILTED, h -> h.cashOut(0, 90)).recover(), 910);
         Doc.says(43, "Throws `IllegalStateException` if there is none to be recovered");
         Refusal.state("no spin", THREE, ShoeHouse::recover);
         Refusal.state("a spin goes on", SPIN, ShoeHouse::recover);
         Refusal.state("stopped", STOPPED, ShoeHouse::recover);
-        Refusal.state("recovered already", () -> after(TILTED, ShoeHouse::recover), ShoeHouse::recover);
-        Refusal.state("taken away", () -> after(TILTED, h -> h.bar(0, 1)), ShoeHouse::recover);
+        Refusal.state("recovered already", () -> Scene.after(TILTED, ShoeHouse::recover), ShoeHouse::recover);
+        Refusal.state("taken away", () -> Scene.after(TILTED, h -> h.bar(0, 1)), ShoeHouse::recover);
     }
 
     private static void pot() {
@@ -507,14 +501,14 @@ final class GameSentences {
         Refusal.indexes(() -> Scene.withGuests(8, 2), 0, 7, (h, guest) -> h.ticket(guest, 123));
         Doc.says(47, "- `numbers`: three unlike digits, the first one of hundreds");
         for (int numbers : new int[] {12, 120, 201, 789, 987, 102}) {
-            Expect.same("ticket " + numbers, after(THREE, h -> h.ticket(0, numbers)).draw(numbers), 1);
-            Expect.same("another " + numbers, after(THREE, h -> h.ticket(0, numbers)).draw(456), 0);
+            Expect.same("ticket " + numbers, Scene.after(THREE, h -> h.ticket(0, numbers)).draw(numbers), 1);
+            Expect.same("another " + numbers, Scene.after(THREE, h -> h.ticket(0, numbers)).draw(456), 0);
         }
         Doc.says(47, "Returns how many were sold for the draw.");
         for (int sold = 0; sold < 12; sold++) {
             Expect.same("sold", withTickets(sold).ticket(0, 678), sold + 1);
         }
-        Expect.same("the next draw", after(() -> withTickets(12), h -> {
+        Expect.same("the next draw", Scene.after(() -> withTickets(12), h -> {
             h.draw(123);
             h.confirm();
         }).ticket(2, 123), 1);
@@ -535,13 +529,13 @@ final class GameSentences {
         stakeRefused(47, 2, h -> h.ticket(0, 123));
         Doc.says(47, "Throws `IllegalStateException` if 12 were sold, or a draw is not confirmed");
         Supplier<ShoeHouse> twelve = () -> withTickets(12);
-        Supplier<ShoeHouse> drawn = () -> after(THREE, h -> h.draw(123));
+        Supplier<ShoeHouse> drawn = () -> Scene.after(THREE, h -> h.draw(123));
         Refusal.taken("the twelfth", () -> withTickets(11), h -> h.ticket(0, 123));
         Refusal.state("the thirteenth", twelve, h -> h.ticket(0, 123));
-        Refusal.state("twelve, of some guests barred", () -> after(twelve, h -> h.bar(0, 1)), h -> h.ticket(1, 123));
+        Refusal.state("twelve, of some guests barred", () -> Scene.after(twelve, h -> h.bar(0, 1)), h -> h.ticket(1, 123));
         Refusal.state("a draw", drawn, h -> h.ticket(0, 123));
         Refusal.state("a draw, days later", () -> Scene.later(drawn.get(), 9), h -> h.ticket(0, 123));
-        Refusal.taken("confirmed", () -> after(drawn, ShoeHouse::confirm), h -> h.ticket(0, 123));
+        Refusal.taken("confirmed", () -> Scene.after(drawn, ShoeHouse::confirm), h -> h.ticket(0, 123));
         Doc.order(47, Doc.INDEX, Doc.ARGUMENT);
         Refusal.index("no guest, 112", THREE, h -> h.ticket(3, 112));
         Doc.order(47, Doc.INDEX, Doc.UNSUPPORTED);
@@ -554,8 +548,8 @@ final class GameSentences {
         Refusal.argument("a draw, 1000", drawn, h -> h.ticket(0, 1000));
         Refusal.argument("12 were sold, 112", twelve, h -> h.ticket(0, 112));
         Doc.order(47, Doc.UNSUPPORTED, Doc.STATE);
-        Refusal.unsupported("a draw, barred", () -> after(drawn, h -> h.bar(0, 1)), h -> h.ticket(0, 123));
-        Refusal.unsupported("12 were sold, the limit", () -> after(twelve, h -> h.limit(0, 9)), h -> h.ticket(0, 123));
+        Refusal.unsupported("a draw, barred", () -> Scene.after(drawn, h -> h.bar(0, 1)), h -> h.ticket(0, 123));
+        Refusal.unsupported("12 were sold, the limit", () -> Scene.after(twelve, h -> h.limit(0, 9)), h -> h.ticket(0, 123));
     }
 
     private static void draw() {
@@ -568,7 +562,7 @@ final class GameSentences {
         Doc.says(48, "- `numbers`: three unlike digits, likewise");
         for (int numbers : new int[] {12, 120, 789, 987}) {
             Refusal.taken("draw " + numbers, THREE, h -> h.draw(numbers));
-            Expect.same("draw " + numbers, after(THREE, h -> h.ticket(0, numbers)).draw(numbers), 1);
+            Expect.same("draw " + numbers, Scene.after(THREE, h -> h.ticket(0, numbers)).draw(numbers), 1);
         }
         Doc.says(48, "Returns how many tickets have three right numbers.");
         Expect.same("no tickets", THREE.get().draw(123), 0);
@@ -580,7 +574,7 @@ final class GameSentences {
             Refusal.argument("draw " + numbers, () -> withTickets(3), h -> h.draw(numbers));
         }
         for (int numbers : MORE) {
-            Refusal.argument("recast by " + numbers, () -> after(() -> withTickets(3), h -> h.draw(123)), h -> h.draw(numbers));
+            Refusal.argument("recast by " + numbers, () -> Scene.after(() -> withTickets(3), h -> h.draw(123)), h -> h.draw(numbers));
         }
     }
 
@@ -592,15 +586,15 @@ final class GameSentences {
         Expect.same("the prize", house.claim(0), 1);
         Expect.same("tickets are sold again", house.ticket(0, 123), 1);
         Doc.says(49, "Returns what goes to winners.");
-        Expect.same("nobody", after(THREE, h -> h.draw(123)).confirm(), 0);
-        Expect.same("no right numbers", after(() -> withTickets(12), h -> h.draw(789)).confirm(), 0);
-        Expect.same("14 by 3, 4 by 9", after(() -> withTickets(12), h -> h.draw(123)).confirm(), 12);
-        Expect.same("4 by 10", after(() -> withTickets(10), h -> h.draw(129)).confirm(), 0);
-        Expect.same("2 by 1", after(() -> withTickets(7), h -> h.draw(126)).confirm(), 8);
+        Expect.same("nobody", Scene.after(THREE, h -> h.draw(123)).confirm(), 0);
+        Expect.same("no right numbers", Scene.after(() -> withTickets(12), h -> h.draw(789)).confirm(), 0);
+        Expect.same("14 by 3, 4 by 9", Scene.after(() -> withTickets(12), h -> h.draw(123)).confirm(), 12);
+        Expect.same("4 by 10", Scene.after(() -> withTickets(10), h -> h.draw(129)).confirm(), 0);
+        Expect.same("2 by 1", Scene.after(() -> withTickets(7), h -> h.draw(126)).confirm(), 8);
         Doc.says(49, "Throws `IllegalStateException` if there is none that is not confirmed");
         Refusal.state("no draw", THREE, ShoeHouse::confirm);
         Refusal.state("tickets, no draw", () -> withTickets(12), ShoeHouse::confirm);
-        Refusal.state("confirmed already", () -> after(THREE, h -> {
+        Refusal.state("confirmed already", () -> Scene.after(THREE, h -> {
             h.draw(123);
             h.confirm();
         }), ShoeHouse::confirm);
@@ -608,7 +602,7 @@ final class GameSentences {
 
     /** Guest 0 has a prize of 1 chip. */
     private static ShoeHouse withPrize() {
-        return after(() -> withTickets(1), h -> {
+        return Scene.after(() -> withTickets(1), h -> {
             h.draw(123);
             h.confirm();
         });
@@ -638,16 +632,16 @@ final class GameSentences {
         Doc.says(50, "Throws `NoSuchElementException` if there are none");
         Refusal.none("no ticket", THREE, h -> h.claim(0));
         Refusal.none("no draw", () -> withTickets(3), h -> h.claim(0));
-        Refusal.none("not confirmed", () -> after(() -> withTickets(3), h -> h.draw(123)), h -> h.claim(0));
-        Refusal.none("no right numbers", () -> after(() -> withTickets(3), h -> {
+        Refusal.none("not confirmed", () -> Scene.after(() -> withTickets(3), h -> h.draw(123)), h -> h.claim(0));
+        Refusal.none("no right numbers", () -> Scene.after(() -> withTickets(3), h -> {
             h.draw(789);
             h.confirm();
         }), h -> h.claim(0));
         Refusal.none("another guest's", GameSentences::withPrize, h -> h.claim(1));
-        Refusal.none("claimed already", () -> after(GameSentences::withPrize, h -> h.claim(0)), h -> h.claim(0));
+        Refusal.none("claimed already", () -> Scene.after(GameSentences::withPrize, h -> h.claim(0)), h -> h.claim(0));
         Refusal.taken("the third day", () -> Scene.later(withPrize(), 3), h -> h.claim(0));
         Refusal.none("the fourth day", () -> Scene.later(withPrize(), 4), h -> h.claim(0));
-        Refusal.none("taken by a bar", () -> after(GameSentences::withPrize, h -> h.bar(0, 1)), h -> h.claim(0));
+        Refusal.none("taken by a bar", () -> Scene.after(GameSentences::withPrize, h -> h.bar(0, 1)), h -> h.claim(0));
         Doc.order(50, Doc.INDEX, Doc.NONE);
         Refusal.index("no guest, no prizes", THREE, h -> h.claim(3));
         Refusal.index("-1, no prizes", THREE, h -> h.claim(-1));
@@ -655,7 +649,7 @@ final class GameSentences {
 
     /** Each of three guests has a prize of 1 chip. */
     private static ShoeHouse withThreePrizes() {
-        return after(THREE, h -> {
+        return Scene.after(THREE, h -> {
             for (int guest = 0; guest < 3; guest++) {
                 h.ticket(guest, 123);
             }
@@ -670,8 +664,8 @@ final class GameSentences {
         for (int tickets = 1; tickets <= 12; tickets++) {
             Expect.same("2 chips each", withTickets(tickets).pool(), 2 * tickets);
         }
-        Expect.same("a draw takes none", after(() -> withTickets(12), h -> h.draw(123)).pool(), 24);
-        Expect.same("less what goes to winners", after(() -> withTickets(12), h -> {
+        Expect.same("a draw takes none", Scene.after(() -> withTickets(12), h -> h.draw(123)).pool(), 24);
+        Expect.same("less what goes to winners", Scene.after(() -> withTickets(12), h -> {
             h.draw(123);
             h.confirm();
         }).pool(), 12);

@@ -1,4 +1,3 @@
-import java.util.function.Consumer;
 import java.util.function.Supplier;
 
 /** The sentences of the terms about the wheel, the machine and lotteries. */
@@ -22,12 +21,6 @@ final class GameTerms {
         prizes();
         dates();
         nextDraws();
-    }
-
-    private static ShoeHouse after(Supplier<ShoeHouse> setting, Consumer<ShoeHouse> call) {
-        ShoeHouse house = setting.get();
-        call.accept(house);
-        return house;
     }
 
     private static int paid(char kind, int number, int stake, int fallen) {
@@ -121,7 +114,7 @@ final class GameTerms {
         }
         Refusal.index("no fourth reel", TWO, h -> h.stops(3, 0));
         Refusal.argument("no symbol 5", TWO, h -> h.stops(0, 5));
-        Refusal.argument("no ninth stop", () -> after(TWO, h -> h.pull(0, 1)), h -> h.stop(8));
+        Refusal.argument("no ninth stop", () -> Scene.after(TWO, h -> h.pull(0, 1)), h -> h.stop(8));
         int symbols = 1234012;
         for (int stop = 0; stop < 8; stop++) {
             ShoeHouse house = machine(symbols);
@@ -157,7 +150,7 @@ final class GameTerms {
         Expect.same("10 of 10", once.chips(0), 5000);
         Expect.same("the tenth", once.pot(), 1);
         Expect.same("the vault paid it", once.vault() + once.tray(2), 89999);
-        ShoeHouse lost = after(TWO, h -> h.pull(0, 10));
+        ShoeHouse lost = Scene.after(TWO, h -> h.pull(0, 10));
         lost.stop(0);
         Expect.same("lost", lost.chips(0), 4990);
     }
@@ -181,7 +174,7 @@ final class GameTerms {
         won.stop(0);
         Expect.same("also of a spin that won", won.pot(), 5);
         Expect.same("the rest pays first", won.vault(), 90000 - 300 + 45);
-        ShoeHouse tilted = after(TWO, h -> h.pull(0, 100));
+        ShoeHouse tilted = Scene.after(TWO, h -> h.pull(0, 100));
         tilted.tilt();
         tilted.recover();
         Expect.same("a tilted spin is not settled", tilted.pot() + tilted.tray(2), 0);
@@ -220,7 +213,8 @@ final class GameTerms {
             Expect.same("no three 0 at " + stops, none.stop(stops), 0);
             Expect.same("the pot stays", none.pot(), 29);
         }
-        Doc.term("if the pot has as much as the told bound or more, 500 at first, as a spin begins, this spin has the pot whatever is shown.");
+        Doc.term("if the pot has as much as the told bound or more, 500 at first, as a spin begins, this spin has the pot whatever is "
+            + "shown.");
         for (int pot = 499; pot <= 501; pot++) {
             ShoeHouse house = withPot(Math.min(pot, 500));
             if (pot == 501) {
@@ -261,7 +255,7 @@ final class GameTerms {
 
     private static void tilts() {
         Doc.term("A tilt stops a spin;");
-        Supplier<ShoeHouse> tilted = () -> after(TWO, h -> {
+        Supplier<ShoeHouse> tilted = () -> Scene.after(TWO, h -> {
             h.pull(0, 50);
             h.tilt();
         });

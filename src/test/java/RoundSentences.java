@@ -1,4 +1,3 @@
-import java.util.function.Consumer;
 import java.util.function.Supplier;
 
 /** The sentences of the promises 16 to 25: bets, deals, how hands play, the cards, the turn. */
@@ -35,12 +34,6 @@ final class RoundSentences {
         cardAtRefused();
         dealerAt();
         turn();
-    }
-
-    private static ShoeHouse after(Supplier<ShoeHouse> setting, Consumer<ShoeHouse> call) {
-        ShoeHouse house = setting.get();
-        call.accept(house);
-        return house;
     }
 
     private static void bet() {
@@ -93,7 +86,7 @@ final class RoundSentences {
 
     private static void betAtATakenSeat() {
         Doc.says(16, BET_REFUSED);
-        Supplier<ShoeHouse> ahead = () -> after(THREE, h -> h.bet(1, 0, 5));
+        Supplier<ShoeHouse> ahead = () -> Scene.after(THREE, h -> h.bet(1, 0, 5));
         Refusal.unsupported("the seat has a stake", ahead, h -> h.bet(1, 1, 2));
         Refusal.unsupported("the same guest's", ahead, h -> h.bet(1, 0, 2));
         Refusal.taken("another seat", ahead, h -> h.bet(0, 0, 2));
@@ -117,12 +110,12 @@ final class RoundSentences {
     }
 
     private static ShoeHouse limited(int limit) {
-        return after(THREE, h -> h.limit(0, limit));
+        return Scene.after(THREE, h -> h.limit(0, limit));
     }
 
     private static void betRefused() {
         Doc.says(16, BET_REFUSED);
-        Supplier<ShoeHouse> barred = () -> after(THREE, h -> h.bar(0, 2));
+        Supplier<ShoeHouse> barred = () -> Scene.after(THREE, h -> h.bar(0, 2));
         Refusal.unsupported("barred", barred, h -> h.bet(0, 0, 2));
         Refusal.unsupported("the day before", () -> Scene.later(barred.get(), 1), h -> h.bet(0, 0, 2));
         Refusal.taken("that day", () -> Scene.later(barred.get(), 2), h -> h.bet(0, 0, 2));
@@ -134,24 +127,24 @@ final class RoundSentences {
         Refusal.taken("up to the limit", () -> limited(50), h -> h.bet(0, 0, 50));
         Refusal.unsupported("above the limit", () -> limited(50), h -> h.bet(0, 0, 51));
         Refusal.unsupported("no limit at all", () -> limited(0), h -> h.bet(0, 0, 2));
-        Supplier<ShoeHouse> staked = () -> after(() -> limited(50), h -> h.wager(0, 'r', 0, 20));
+        Supplier<ShoeHouse> staked = () -> Scene.after(() -> limited(50), h -> h.wager(0, 'r', 0, 20));
         Refusal.taken("up to the limit with the wager", staked, h -> h.bet(0, 0, 30));
         Refusal.unsupported("above the limit with the wager", staked, h -> h.bet(0, 0, 31));
         Doc.says(16, "Throws `IllegalStateException` if a round goes on");
         Refusal.state("a free seat", TWO_SEATS, h -> h.bet(1, 0, 5));
-        Refusal.state("a guest of no seat", () -> after(ROUND, h -> h.guest(9)), h -> h.bet(1, 0, 5));
-        Refusal.state("a stake that came back", () -> after(TWO_SEATS, h -> h.bar(0, 1)), h -> h.bet(0, 1, 5));
-        Refusal.taken("no round", () -> after(ROUND, h -> h.stand(0)), h -> h.bet(1, 0, 5));
+        Refusal.state("a guest of no seat", () -> Scene.after(ROUND, h -> h.guest(9)), h -> h.bet(1, 0, 5));
+        Refusal.state("a stake that came back", () -> Scene.after(TWO_SEATS, h -> h.bar(0, 1)), h -> h.bet(0, 1, 5));
+        Refusal.taken("no round", () -> Scene.after(ROUND, h -> h.stand(0)), h -> h.bet(1, 0, 5));
     }
 
     private static void betInOrder() {
-        Supplier<ShoeHouse> ahead = () -> after(THREE, h -> h.bet(1, 0, 5));
+        Supplier<ShoeHouse> ahead = () -> Scene.after(THREE, h -> h.bet(1, 0, 5));
         Doc.order(16, Doc.INDEX, Doc.ARGUMENT);
         Refusal.index("no seat, 1 chip", THREE, h -> h.bet(3, 0, 1));
         Refusal.index("no guest, 1001 chips", THREE, h -> h.bet(0, 3, 1001));
         Doc.order(16, Doc.INDEX, Doc.UNSUPPORTED);
         Refusal.index("no guest, the seat has a stake", ahead, h -> h.bet(1, 3, 5));
-        Refusal.index("no seat, barred", () -> after(THREE, h -> h.bar(0, 1)), h -> h.bet(3, 0, 5));
+        Refusal.index("no seat, barred", () -> Scene.after(THREE, h -> h.bar(0, 1)), h -> h.bet(3, 0, 5));
         Doc.order(16, Doc.INDEX, Doc.STATE);
         Refusal.index("a round, no seat", TWO_SEATS, h -> h.bet(-1, 0, 5));
         Refusal.index("a round, no guest", TWO_SEATS, h -> h.bet(1, 2, 5));
@@ -164,8 +157,8 @@ final class RoundSentences {
         Doc.order(16, Doc.UNSUPPORTED, Doc.STATE);
         Refusal.unsupported("a round, a taken seat", TWO_SEATS, h -> h.bet(2, 0, 5));
         Refusal.unsupported("a round, too few chips", TWO_SEATS, h -> h.bet(1, 0, 981));
-        Refusal.unsupported("a round, barred", () -> after(TWO_SEATS, h -> h.bar(0, 1)), h -> h.bet(1, 0, 5));
-        Refusal.unsupported("a round, above the limit", () -> after(TWO_SEATS, h -> h.limit(1, 24)), h -> h.bet(1, 1, 5));
+        Refusal.unsupported("a round, barred", () -> Scene.after(TWO_SEATS, h -> h.bar(0, 1)), h -> h.bet(1, 0, 5));
+        Refusal.unsupported("a round, above the limit", () -> Scene.after(TWO_SEATS, h -> h.limit(1, 24)), h -> h.bet(1, 1, 5));
     }
 
     private static void deal() {
@@ -193,17 +186,17 @@ final class RoundSentences {
 
     private static void dealRefused() {
         Doc.says(17, "Throws `UnsupportedOperationException` if no seat has a stake, also in a round, or there are fewer than 30 cards");
-        Refusal.unsupported("no stake", () -> after(THREE, h -> h.lay(1)), ShoeHouse::deal);
-        Refusal.unsupported("the stake was settled", () -> after(ROUND, h -> h.stand(0)), ShoeHouse::deal);
-        Refusal.unsupported("the stake came back", () -> after(() -> Scene.staked(9, Cards.ACES), h -> h.bar(0, 1)), ShoeHouse::deal);
-        Refusal.unsupported("no shoe", () -> after(THREE, h -> h.bet(0, 0, 5)), ShoeHouse::deal);
+        Refusal.unsupported("no stake", () -> Scene.after(THREE, h -> h.lay(1)), ShoeHouse::deal);
+        Refusal.unsupported("the stake was settled", () -> Scene.after(ROUND, h -> h.stand(0)), ShoeHouse::deal);
+        Refusal.unsupported("the stake came back", () -> Scene.after(() -> Scene.staked(9, Cards.ACES), h -> h.bar(0, 1)), ShoeHouse::deal);
+        Refusal.unsupported("no shoe", () -> Scene.after(THREE, h -> h.bet(0, 0, 5)), ShoeHouse::deal);
         for (int seats = 1; seats <= 3; seats++) {
             int asked = seats;
-            Refusal.taken("30 cards", () -> after(() -> withDeck(30), h -> Scene.betAt(h, asked)), ShoeHouse::deal);
-            Refusal.unsupported("29 cards", () -> after(() -> withDeck(29), h -> Scene.betAt(h, asked)), ShoeHouse::deal);
+            Refusal.taken("30 cards", () -> Scene.after(() -> withDeck(30), h -> Scene.betAt(h, asked)), ShoeHouse::deal);
+            Refusal.unsupported("29 cards", () -> Scene.after(() -> withDeck(29), h -> Scene.betAt(h, asked)), ShoeHouse::deal);
         }
         Refusal.unsupported("30 cards, no stake", () -> withDeck(30), ShoeHouse::deal);
-        Refusal.unsupported("no card", () -> after(() -> Scene.withCards(0), h -> h.bet(0, 0, 5)), ShoeHouse::deal);
+        Refusal.unsupported("no card", () -> Scene.after(() -> Scene.withCards(0), h -> h.bet(0, 0, 5)), ShoeHouse::deal);
         Doc.says(17, "Throws `IllegalStateException` if a round goes on");
         Refusal.state("a round", ROUND, ShoeHouse::deal);
         Refusal.state("a round, one hand lost", () -> actedAtFirst("h"), ShoeHouse::deal);
@@ -239,16 +232,16 @@ final class RoundSentences {
         Doc.says(promise, NO_ROUND);
         Refusal.state("a new house", ShoeHouse::new, h -> act.on(h, 0));
         Refusal.state("a stake", () -> Scene.staked(20, Cards.EIGHTS), h -> act.on(h, 0));
-        Refusal.state("the round is over", () -> after(PAIR, h -> h.stand(0)), h -> act.on(h, 0));
+        Refusal.state("the round is over", () -> Scene.after(PAIR, h -> h.stand(0)), h -> act.on(h, 0));
         Refusal.state("over at once", () -> Scene.dealt(20, Cards.SEAT_NATURAL), h -> act.on(h, 0));
-        Refusal.state("over by a bar", () -> after(PAIR, h -> h.bar(0, 1)), h -> act.on(h, 0));
+        Refusal.state("over by a bar", () -> Scene.after(PAIR, h -> h.bar(0, 1)), h -> act.on(h, 0));
         Doc.says(promise, whenNot);
         Refusal.unsupported("no stake at the seat", PAIR, h -> act.on(h, 1));
         Refusal.unsupported("another seat's turn", TWO_SEATS, h -> act.on(h, 2));
         Refusal.unsupported("the hand stood", () -> actedAtFirst("s"), h -> act.on(h, 0));
         Refusal.unsupported("the hand is lost", () -> actedAtFirst("h"), h -> act.on(h, 0));
         Refusal.unsupported("a natural", () -> Scene.dealtToTwo("i i"), h -> act.on(h, 0));
-        Refusal.unsupported("taken away", () -> after(TWO_SEATS, h -> h.bar(0, 1)), h -> act.on(h, 0));
+        Refusal.unsupported("taken away", () -> Scene.after(TWO_SEATS, h -> h.bar(0, 1)), h -> act.on(h, 0));
         Doc.order(promise, Doc.INDEX, Doc.STATE);
         Refusal.index("no round, seat 3", ShoeHouse::new, h -> act.on(h, 3));
         Refusal.index("no round, seat -1", ShoeHouse::new, h -> act.on(h, -1));
@@ -350,8 +343,8 @@ final class RoundSentences {
 
     private static void twiceRefused() {
         Doc.says(20, TWICE_REFUSED);
-        Refusal.unsupported("three cards", () -> after(() -> Scene.dealt(20, Cards.ACES), h -> h.hit(0)), h -> h.twice(0));
-        Refusal.unsupported("four cards", () -> after(() -> Scene.withGuests(1, 1000), h -> {
+        Refusal.unsupported("three cards", () -> Scene.after(() -> Scene.dealt(20, Cards.ACES), h -> h.hit(0)), h -> h.twice(0));
+        Refusal.unsupported("four cards", () -> Scene.after(() -> Scene.withGuests(1, 1000), h -> {
             h.lay(2);
             h.bet(0, 0, 20);
             h.deal();
@@ -361,13 +354,13 @@ final class RoundSentences {
         Refusal.unsupported("the second hand of a split", () -> splitBy(false, "s"), h -> h.twice(0));
         Refusal.taken("by the rule", () -> splitBy(true, ""), h -> h.twice(0));
         Refusal.taken("by the rule, the second hand", () -> splitBy(true, "s"), h -> h.twice(0));
-        Refusal.taken("by the rule, no split", () -> after(() -> Scene.staked(20, Cards.EIGHTS), h -> {
+        Refusal.taken("by the rule, no split", () -> Scene.after(() -> Scene.staked(20, Cards.EIGHTS), h -> {
             h.rule('d', true);
             h.deal();
         }), h -> h.twice(0));
         Refusal.unsupported("no card", Scene::withoutCardsAndTwo, h -> h.twice(2));
         Refusal.taken("the last card", Scene::withLastCard, h -> h.twice(2));
-        Refusal.unsupported("a barred guest's", () -> after(TWO_SEATS, h -> h.bar(0, 1)), h -> h.twice(0));
+        Refusal.unsupported("a barred guest's", () -> Scene.after(TWO_SEATS, h -> h.bar(0, 1)), h -> h.twice(0));
         Refusal.taken("just so many chips", () -> sixteen(32, 5000, Cards.DOUBLE_18), h -> h.twice(0));
         Refusal.unsupported("a chip less", () -> sixteen(31, 5000, Cards.DOUBLE_18), h -> h.twice(0));
         Refusal.unsupported("no chips", () -> sixteen(16, 5000, Cards.DOUBLE_18), h -> h.twice(0));
@@ -407,18 +400,17 @@ final class RoundSentences {
 
     private static void splitRefused() {
         Doc.says(21, SPLIT_REFUSED);
-        Refusal.unsupported("it was split, two tens again", () -> after(RoundSentences::tens, h -> h.split(0)), h -> h.split(0));
-        Refusal.unsupported("the second hand, two tens", () -> after(RoundSentences::tens, h -> {
+        Refusal.unsupported("it was split, two tens again", () -> Scene.after(RoundSentences::tens, h -> h.split(0)), h -> h.split(0));
+        Refusal.unsupported("the second hand, two tens", () -> Scene.after(RoundSentences::tens, h -> {
             h.split(0);
             h.stand(0);
         }), h -> h.split(0));
         Refusal.unsupported("8 and 10", ROUND, h -> h.split(0));
-        Refusal.unsupported("three cards", () -> after(() -> Scene.dealt(20, Cards.ACES), h -> h.hit(0)), h -> h.split(0));
+        Refusal.unsupported("three cards", () -> Scene.after(() -> Scene.dealt(20, Cards.ACES), h -> h.hit(0)), h -> h.split(0));
         Refusal.unsupported("no card", Scene::withoutCardsAndPair, h -> h.split(2));
         Refusal.unsupported("one card", Scene::withLastCard, h -> h.split(2));
         Refusal.taken("two cards", Scene::withTwoCards, h -> h.split(2));
-        Refusal.unsupported("a barred guest's", () -> after(() -> after(RoundSentences::tens, h -> h.split(0)), h -> h.bar(1, 1)),
-            h -> h.split(1));
+        Refusal.unsupported("a barred guest's", () -> Scene.after(TWO_SEATS, h -> h.bar(0, 1)), h -> h.split(0));
         Refusal.taken("just so many chips", () -> sixteen(32, 5000, Cards.EIGHTS), h -> h.split(0));
         Refusal.unsupported("a chip less", () -> sixteen(31, 5000, Cards.EIGHTS), h -> h.split(0));
         Refusal.unsupported("no chips", () -> sixteen(16, 5000, Cards.EIGHTS), h -> h.split(0));
@@ -453,23 +445,23 @@ final class RoundSentences {
     private static void surrenderRefused() {
         Doc.says(22, SURRENDER_REFUSED);
         Refusal.unsupported("no rule", ROUND, h -> h.surrender(0));
-        Refusal.unsupported("the rule is gone", () -> after(() -> Scene.staked(20, Cards.BUSTS), h -> {
+        Refusal.unsupported("the rule is gone", () -> Scene.after(() -> Scene.staked(20, Cards.BUSTS), h -> {
             h.rule('u', true);
             h.rule('u', false);
             h.deal();
         }), h -> h.surrender(0));
-        Refusal.unsupported("other rules", () -> after(() -> Scene.staked(20, Cards.BUSTS), h -> {
+        Refusal.unsupported("other rules", () -> Scene.after(() -> Scene.staked(20, Cards.BUSTS), h -> {
             h.rule('d', true);
             h.rule('s', true);
             h.rule('n', true);
             h.deal();
         }), h -> h.surrender(0));
-        Refusal.unsupported("the first hand of a split", () -> after(RoundSentences::tens, h -> h.split(0)), h -> h.surrender(0));
-        Refusal.unsupported("the second hand of a split", () -> after(RoundSentences::tens, h -> {
+        Refusal.unsupported("the first hand of a split", () -> Scene.after(RoundSentences::tens, h -> h.split(0)), h -> h.surrender(0));
+        Refusal.unsupported("the second hand of a split", () -> Scene.after(RoundSentences::tens, h -> {
             h.split(0);
             h.stand(0);
         }), h -> h.surrender(0));
-        Refusal.unsupported("three cards", () -> after(() -> Scene.withGuests(1, 1000), h -> {
+        Refusal.unsupported("three cards", () -> Scene.after(() -> Scene.withGuests(1, 1000), h -> {
             h.rule('u', true);
             h.lay(2);
             h.bet(0, 0, 20);
@@ -497,14 +489,14 @@ final class RoundSentences {
         for (int seat = 0; seat <= 2; seat++) {
             Expect.same("seat " + seat, pairAt(seat).cardAt(seat, 0, 1), 8);
         }
-        Refusal.indexes(() -> after(THREE, h -> {
+        Refusal.indexes(() -> Scene.after(THREE, h -> {
             Scene.betAt(h, 3);
             h.lay(1);
             h.deal();
         }), 0, 2, (h, seat) -> h.cardAt(seat, 0, 0));
         Doc.says(23, "- `hand`: 0, or 1 of a split");
         Refusal.indexes(PAIR, 0, 0, (h, hand) -> h.cardAt(0, hand, 0));
-        Refusal.indexes(() -> after(PAIR, h -> h.split(0)), 0, 1, (h, hand) -> h.cardAt(0, hand, 0));
+        Refusal.indexes(() -> Scene.after(PAIR, h -> h.split(0)), 0, 1, (h, hand) -> h.cardAt(0, hand, 0));
         Doc.says(23, "- `place`: the place, from 0");
         ShoeHouse many = Scene.withGuests(1, 1000);
         many.lay(2);
@@ -526,10 +518,10 @@ final class RoundSentences {
         Refusal.index("a stake alone", () -> Scene.staked(20, Cards.EIGHTS), h -> h.cardAt(0, 0, 0));
         Refusal.index("another seat", PAIR, h -> h.cardAt(1, 0, 0));
         Refusal.index("no second hand", PAIR, h -> h.cardAt(0, 1, 0));
-        Refusal.index("no third hand", () -> after(PAIR, h -> h.split(0)), h -> h.cardAt(0, 2, 0));
+        Refusal.index("no third hand", () -> Scene.after(PAIR, h -> h.split(0)), h -> h.cardAt(0, 2, 0));
         Refusal.index("hand -1", PAIR, h -> h.cardAt(0, -1, 0));
-        Refusal.index("taken away", () -> after(PAIR, h -> h.bar(0, 1)), h -> h.cardAt(0, 0, 0));
-        Refusal.index("laid anew", () -> after(PAIR, h -> {
+        Refusal.index("taken away", () -> Scene.after(PAIR, h -> h.bar(0, 1)), h -> h.cardAt(0, 0, 0));
+        Refusal.index("laid anew", () -> Scene.after(PAIR, h -> {
             h.stand(0);
             h.lay(1);
         }), h -> h.cardAt(0, 0, 0));
@@ -538,9 +530,9 @@ final class RoundSentences {
         Refusal.none("place -1", PAIR, h -> h.cardAt(0, 0, -1));
         Refusal.none("the least place", PAIR, h -> h.cardAt(0, 0, Integer.MIN_VALUE));
         Refusal.none("the greatest place", PAIR, h -> h.cardAt(0, 0, Integer.MAX_VALUE));
-        Refusal.none("place 2 of the second hand", () -> after(PAIR, h -> h.split(0)), h -> h.cardAt(0, 1, 2));
-        Refusal.none("place 3", () -> after(() -> Scene.dealt(20, Cards.ACES), h -> h.hit(0)), h -> h.cardAt(0, 0, 3));
-        Refusal.none("of the last round", () -> after(PAIR, h -> h.stand(0)), h -> h.cardAt(0, 0, 2));
+        Refusal.none("place 2 of the second hand", () -> Scene.after(PAIR, h -> h.split(0)), h -> h.cardAt(0, 1, 2));
+        Refusal.none("place 3", () -> Scene.after(() -> Scene.dealt(20, Cards.ACES), h -> h.hit(0)), h -> h.cardAt(0, 0, 3));
+        Refusal.none("of the last round", () -> Scene.after(PAIR, h -> h.stand(0)), h -> h.cardAt(0, 0, 2));
         Doc.order(23, Doc.INDEX, Doc.NONE);
         Refusal.index("no seat, no card", PAIR, h -> h.cardAt(3, 0, 9));
         Refusal.index("no hand, no card", PAIR, h -> h.cardAt(0, 1, 9));
@@ -579,8 +571,8 @@ final class RoundSentences {
         Refusal.none("place -1", ROUND, h -> h.dealerAt(-1));
         Refusal.none("the least place", ROUND, h -> h.dealerAt(Integer.MIN_VALUE));
         Refusal.none("the greatest place", ROUND, h -> h.dealerAt(Integer.MAX_VALUE));
-        Refusal.none("of the last round", () -> after(ROUND, h -> h.stand(0)), h -> h.dealerAt(3));
-        Refusal.none("laid anew", () -> after(ROUND, h -> {
+        Refusal.none("of the last round", () -> Scene.after(ROUND, h -> h.stand(0)), h -> h.dealerAt(3));
+        Refusal.none("laid anew", () -> Scene.after(ROUND, h -> {
             h.stand(0);
             h.lay(2);
         }), h -> h.dealerAt(0));
@@ -593,12 +585,12 @@ final class RoundSentences {
         }
         Expect.same("behind a natural", Scene.dealtToTwo("i i").turn(), 2);
         Expect.same("behind a lost hand", actedAtFirst("h").turn(), 2);
-        Expect.same("behind a hand taken away", after(TWO_SEATS, h -> h.bar(0, 1)).turn(), 2);
-        Expect.same("the second hand of a split", after(PAIR, h -> Scene.act(h, "ps")).turn(), 0);
+        Expect.same("behind a hand taken away", Scene.after(TWO_SEATS, h -> h.bar(0, 1)).turn(), 2);
+        Expect.same("the second hand of a split", Scene.after(PAIR, h -> Scene.act(h, "ps")).turn(), 0);
         Doc.says(25, NO_ROUND);
         Refusal.state("a new house", ShoeHouse::new, ShoeHouse::turn);
         Refusal.state("a stake", () -> Scene.staked(20, Cards.EIGHTS), ShoeHouse::turn);
-        Refusal.state("the round is over", () -> after(PAIR, h -> h.stand(0)), ShoeHouse::turn);
+        Refusal.state("the round is over", () -> Scene.after(PAIR, h -> h.stand(0)), ShoeHouse::turn);
         Refusal.state("over at once", () -> Scene.dealt(20, Cards.TEN_AND_ACE), ShoeHouse::turn);
     }
 }

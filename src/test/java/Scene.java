@@ -1,3 +1,6 @@
+import java.util.function.Consumer;
+import java.util.function.Supplier;
+
 /** Ways to bring a house into the state that a test needs. */
 final class Scene {
     private Scene() {
@@ -194,6 +197,13 @@ final class Scene {
         for (int left = days; left > 0; left -= 30) {
             house.pass(Math.min(left, 30));
         }
+        return house;
+    }
+
+    /** A new house of the setting, on which a call was made. */
+    static ShoeHouse after(Supplier<ShoeHouse> setting, Consumer<ShoeHouse> call) {
+        ShoeHouse house = setting.get();
+        call.accept(house);
         return house;
     }
 
