@@ -296,6 +296,20 @@ final class CardTerms {
         Expect.same("the first one plays", house.hit(0), 21);
         Expect.same("then the second one", house.hit(0), 26);
         Expect.same("both got their cards", Snapshot.cards(house, 0, 0) + Snapshot.cards(house, 0, 1), "8 3 10 8 9 9 ");
+        ShoeHouse next = Scene.after(tens, h -> Scene.act(h, "ss"));
+        next.rule('u', true);
+        next.bet(0, 0, 20);
+        next.deal();
+        Expect.same("the next round is no split", next.surrender(0), 10);
+        next.bet(0, 0, 20);
+        next.deal();
+        Expect.same("it can be split again", next.split(0), 20);
+        Scene.standAll(next);
+        next.bet(0, 0, 20);
+        Scene.lay(next, 1, Cards.SEAT_NATURAL);
+        int before = next.chips(0);
+        next.deal();
+        Expect.same("a natural at a seat that was split", next.chips(0), before + 50);
         Doc.term("a hand of a split is no natural.");
         ShoeHouse aces = Scene.dealt(11, Cards.ACES);
         aces.split(0);
@@ -539,6 +553,7 @@ final class CardTerms {
         Doc.term("Without a card left it is 0.0.");
         for (int value = 17; value <= 22; value++) {
             Expect.same("2 and the last card", Scene.withoutCards().dealerEnds(value), 0.0);
+            Expect.same("10 and the last card", Scene.withHiddenTen().dealerEnds(value), value == 20 ? 1.0 : 0.0);
         }
     }
 
@@ -630,6 +645,16 @@ final class CardTerms {
         Expect.same("means, not sums", isSuspected(new int[] {59, 59, 59, 59, 59}, new int[] {20, 20, 20}), false);
         Expect.same("means, not sums", isSuspected(new int[] {60, 60, 60}, new int[] {20, 20, 20, 20}), true);
         suspicionsOfDoublesAndSplits();
+        ShoeHouse below = Scene.withGuests(1, 4000);
+        ShoeTest.betOfTwoDecks(below, 20);
+        for (int i = 0; i < 3; i++) {
+            below.weigh(8, 1);
+            Expect.same("2 by 100", below.trueCount(), 1);
+            ShoeTest.betOfTwoDecks(below, 60);
+            below.weigh(8, 0);
+            ShoeTest.betOfTwoDecks(below, 20);
+        }
+        Expect.same("1 is no 2", below.isSuspected(0), false);
         ShoeHouse ahead = Scene.withGuests(1, 4000);
         ahead.weigh(8, 3);
         ahead.bet(0, 0, 10);
@@ -653,45 +678,32 @@ final class CardTerms {
         Expect.same("all cards were seen: others too", empty.isSuspected(0), false);
     }
 
-    /** Doubles and splits at a true count of 2 and below do not change the means. */
+    /** Two bets of one kind, of which one is doubled and one split, are not three: neither at a high count nor at another. */
     private static void suspicionsOfDoublesAndSplits() {
-        ShoeHouse house = ShoeTest.watched();
-        for (int i = 0; i < 3; i++) {
-            house.weigh(8, 0);
-            house.weigh(9, 0);
-            doubled(house, 20);
-            ShoeTest.tellHigh(house);
-            Expect.same("high", house.trueCount(), 2);
-            ShoeTest.betAtSeat(house, 0, 59);
+        for (boolean isHigh : new boolean[] {true, false}) {
+            ShoeHouse house = ShoeTest.watched();
+            house.weigh(8, isHigh ? 0 : 1);
+            for (int i = 0; i < 3; i++) {
+                ShoeTest.betAtSeat(house, 0, isHigh ? 2 : 300);
+            }
+            house.weigh(8, isHigh ? 2 : 0);
+            for (String recipe : new String[] {Cards.DOUBLE_18, Cards.EIGHTS}) {
+                Expect.same("a high count ahead of it", house.trueCount() >= 2, isHigh);
+                house.bet(2, 0, isHigh ? 300 : 2);
+                Scene.lay(house, 1, recipe);
+                house.deal();
+                Expect.same("a high count in it", house.trueCount() >= 2, isHigh);
+                if (recipe.equals(Cards.EIGHTS)) {
+                    house.split(2);
+                } else {
+                    house.twice(2);
+                }
+                Scene.standAll(house);
+                Expect.same("two bets", house.isSuspected(0), false);
+            }
+            Expect.same("a high count ahead of it", house.trueCount() >= 2, isHigh);
+            house.bet(2, 0, isHigh ? 300 : 2);
+            Expect.same("three bets", house.isSuspected(0), true);
         }
-        Expect.same("59 to 20, not less", house.isSuspected(0), false);
-        ShoeHouse other = ShoeTest.watched();
-        for (int i = 0; i < 3; i++) {
-            other.weigh(8, 0);
-            doubled(other, 20);
-            ShoeTest.tellHigh(other);
-            ShoeTest.betAtSeat(other, 0, 60);
-        }
-        Expect.same("60 to 20, not to 40", other.isSuspected(0), true);
-        ShoeHouse high = ShoeTest.watched();
-        for (int i = 0; i < 3; i++) {
-            high.weigh(8, 0);
-            ShoeTest.betAtSeat(high, 0, 20);
-            ShoeTest.tellHigh(high);
-            doubled(high, 40);
-        }
-        Expect.same("40 to 20, not 80", high.isSuspected(0), false);
-    }
-
-    /** A bet that is doubled; then 8 8 9 9 were seen again, as behind watched(). */
-    private static void doubled(ShoeHouse house, int chips) {
-        house.bet(2, 0, chips);
-        Scene.lay(house, 1, Cards.DOUBLE_18);
-        house.deal();
-        house.twice(2);
-        house.bet(1, 1, 2);
-        Scene.lay(house, 1, "30");
-        house.deal();
-        house.stand(1);
     }
 }

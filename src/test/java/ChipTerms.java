@@ -241,6 +241,15 @@ final class ChipTerms {
         Expect.unsupported(again, "also what is recovered", () -> again.pull(0, 1));
         again.bar(0, 1);
         Expect.same("also what a bar brings back", again.staked(0), 5000);
+        for (int day = 1; day <= 2; day++) {
+            ShoeHouse later = Scene.later(Scene.withGuests(1, 9000), day);
+            for (int i = 0; i < 10; i++) {
+                later.wager(0, 'r', 0, 500);
+            }
+            later.spin(0);
+            Expect.same("5000 of a later day", later.staked(0), 5000);
+            Expect.unsupported(later, "no more on a later day", () -> later.wager(0, 'r', 0, 1));
+        }
         ShoeHouse half = Scene.withGuests(1, 100);
         half.rule('u', true);
         half.limit(0, 20);
@@ -315,6 +324,7 @@ final class ChipTerms {
         settled.stop(0);
         Expect.same("what was settled does not", settled.bar(0, 1), 0);
         Expect.same("chips", settled.chips(0), 965);
+        settledHandsStay();
         ShoeHouse other = staking(TWO.get());
         Expect.same("nothing of another guest", other.bar(1, 1), 0);
         other.stand(0);
@@ -333,6 +343,25 @@ final class ChipTerms {
         twice.twice(0);
         Expect.same("a doubled hand that stands, and the one that plays", twice.bar(0, 1), 60);
         Expect.same("chips", twice.chips(0), 1000);
+    }
+
+    /** What was settled, in this round or the last one, is not taken away. */
+    private static void settledHandsStay() {
+        ShoeHouse lost = Scene.dealtToTwo("i 48 i i");
+        lost.hit(0);
+        String cards = Snapshot.cards(lost, 0, 0);
+        Expect.same("a lost hand", lost.bar(0, 1), 0);
+        Expect.same("it stays", Snapshot.cards(lost, 0, 0), cards);
+        Expect.unsupported(lost, "its seat is taken", () -> lost.bet(0, 1, 5));
+        ShoeHouse last = Scene.dealt(20, Cards.EIGHTS);
+        last.split(0);
+        Scene.standAll(last);
+        Expect.same("hands of the last round", last.bar(0, 1), 0);
+        Expect.same("they stay", Snapshot.cards(last, 0, 0) + Snapshot.cards(last, 0, 1), "8 3 8 9 ");
+        last.pass(1);
+        last.bet(0, 0, 30);
+        Expect.same("a stake ahead of the next one", last.bar(0, 2), 30);
+        Expect.same("they stay", Snapshot.cards(last, 0, 0) + Snapshot.cards(last, 0, 1), "8 3 8 9 ");
     }
 
     private static void handsTakenAway() {

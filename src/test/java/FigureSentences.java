@@ -256,6 +256,22 @@ final class FigureSentences {
         }
         deep.spin(7);
         Expect.same("far below 0", deep.vaultBits(), Float.floatToIntBits((float) -175000 / (float) 100000));
+        deep.pass(1);
+        deep.wager(0, 'n', 7, 500);
+        deep.wager(0, 'n', 7, 214);
+        deep.wager(0, 'r', 0, 10);
+        deep.spin(7);
+        Expect.same("twice as much as all", deep.vault(), -200000);
+        Expect.same("-2.0f", deep.vaultBits(), 0xc0000000);
+        for (int i = 0; i < 3; i++) {
+            deep.pass(1);
+            for (int wager = 0; wager < 10; wager++) {
+                deep.wager(0, 'n', 7, 500);
+            }
+            deep.spin(7);
+            Expect.same("bits of " + deep.vault(), deep.vaultBits(), Float.floatToIntBits((float) deep.vault() / (float) 100000));
+        }
+        Expect.same("more than 4 times as much", deep.vault() < -400000, true);
     }
 
     private static void barredShare() {
@@ -304,10 +320,14 @@ final class FigureSentences {
         }
         ShoeHouse card = busy();
         int[] seen = (int[]) inside(inside(card, "shoe"), "seen");
-        seen[10]++;
-        Expect.same("a card too many was seen", card.isSound(), false);
-        seen[10]--;
-        Expect.same("as it was", card.isSound(), true);
+        for (int rank = 1; rank <= 10; rank++) {
+            seen[rank]++;
+            Expect.same("a card too many was seen: " + rank, card.isSound(), false);
+            seen[rank] -= 2;
+            Expect.same("a card too few was seen: " + rank, card.isSound(), false);
+            seen[rank]++;
+            Expect.same("as it was", card.isSound(), true);
+        }
         for (int guest = 0; guest < 3; guest++) {
             ShoeHouse barred = busy();
             Object player = ((Object[]) inside(barred, "guests"))[guest];

@@ -39,12 +39,13 @@ public final class ModelTest {
 
     public static void main(String[] args) {
         int runs = args.length > 0 ? Integer.parseInt(args[0]) : 4000;
+        int first = args.length > 1 ? Integer.parseInt(args[1]) : 0;
         TreeMap<String, Integer> answered = new TreeMap<>();
-        for (int seed = 0; seed < runs; seed++) {
+        for (int seed = first; seed < first + runs; seed++) {
             Expect.same("run " + seed, new ModelTest(seed, answered).run(), "");
         }
         for (Method method : methods()) {
-            Expect.same("answers of " + method.getName(), answered.getOrDefault(method.getName(), 0) > runs / 40, true);
+            Expect.same("answers of " + method.getName(), answered.getOrDefault(method.getName(), 0) > runs / 100, true);
         }
         System.out.println(answered);
         Expect.end(ModelTest.class);

@@ -497,6 +497,11 @@ final class RoundSentences {
         Doc.says(23, "- `hand`: 0, or 1 of a split");
         Refusal.indexes(PAIR, 0, 0, (h, hand) -> h.cardAt(0, hand, 0));
         Refusal.indexes(() -> Scene.after(PAIR, h -> h.split(0)), 0, 1, (h, hand) -> h.cardAt(0, hand, 0));
+        ShoeHouse next = Scene.after(RoundSentences::tens, h -> Scene.act(h, "pss"));
+        next.bet(0, 0, 20);
+        next.deal();
+        Expect.index(next, "no split in the next round", () -> next.cardAt(0, 1, 0));
+        Expect.same("two tens again", next.split(0), 20);
         Doc.says(23, "- `place`: the place, from 0");
         ShoeHouse many = Scene.withGuests(1, 1000);
         many.lay(2);

@@ -156,6 +156,13 @@ final class Scene {
         return house;
     }
 
+    /** In a round the dealer has a 10, and of all cards only the hidden 10 was not seen. */
+    static ShoeHouse withHiddenTen() {
+        ShoeHouse house = playedDown(23, "2312321333", "i");
+        act(house, "phhhhsphhsphhhhhhhhhh");
+        return house;
+    }
+
     /** In a round seat 2 has a pair, and the shoe has two cards. */
     static ShoeHouse withTwoCards() {
         ShoeHouse house = playedDown(30, "13131331133", "o");

@@ -386,7 +386,7 @@ public final class ShoeTest {
     }
 
     /** Bets at a shoe of two decks of which 8 8 9 9 were seen, and brings it back to that. */
-    private static void betOfTwoDecks(ShoeHouse house, int chips) {
+    static void betOfTwoDecks(ShoeHouse house, int chips) {
         house.bet(2, 0, chips);
         house.lay(2);
         house.cut(62);
